@@ -1,0 +1,185 @@
+import java.util.ArrayList;
+import java.util.List;
+
+/** Promises 18 to 20: the written form, and how strictly it is read. */
+public final class FormTest {
+    private static final Class<IllegalArgumentException> NOT_FIT = IllegalArgumentException.class;
+    private static final Class<UnsupportedOperationException> NOT_DONE =
+            UnsupportedOperationException.class;
+
+    /** Each last number of so many bytes and the next one, and where the first byte is 128. */
+    private static final int[] NUMBERS = {
+        0, 1, 5, 127, 128, 129, 255, 256, 32767, 32768, 32769, 65535, 65536, 8388607, 8388608,
+        8388609, 16777215, 16777216, 1073741824, 2147483646, 2147483647
+    };
+
+    private static final Due DUE = new Due("FormTest");
+
+    public static void main(String[] args) {
+        written();
+        writtenRefuses();
+        type();
+        typeRefuses();
+        readOfForms();
+        readOfChangedForms();
+        readOfCutAndLongForms();
+        readOfOtherForms();
+        readForgets();
+        DUE.end();
+    }
+
+    private static void written() {
+        for (int r : NUMBERS) {
+            for (int s : NUMBERS) {
+                EvenCurveKeys keys = new EvenCurveKeys();
+                List<Integer> form = Model.form(r, s);
+                String of = " of " + r + " and " + s;
+                DUE.number("length" + of, form.size(), () -> keys.written(r, s, -1));
+                for (int i = 0; i < form.size(); i++) {
+                    int asked = i;
+                    DUE.number("byte " + i + of, form.get(i), () -> keys.written(r, s, asked));
+                }
+                DUE.refusal("byte past the last" + of, NOT_FIT,
+                        () -> keys.written(r, s, form.size()));
+            }
+        }
+    }
+
+    private static void writtenRefuses() {
+        EvenCurveKeys keys = new EvenCurveKeys();
+        for (int wrong : new int[] {-1, -128, Integer.MIN_VALUE}) {
+            for (int i = -1; i < 8; i++) {
+                int asked = i;
+                DUE.refusal("written of r = " + wrong, NOT_FIT, () -> keys.written(wrong, 1, asked));
+                DUE.refusal("written of s = " + wrong, NOT_FIT, () -> keys.written(1, wrong, asked));
+            }
+        }
+        for (int i : new int[] {-2, -3, 8, 9, 20, Integer.MIN_VALUE, Integer.MAX_VALUE}) {
+            DUE.refusal("written's byte " + i, NOT_FIT, () -> keys.written(1, 1, i));
+        }
+        DUE.number("read()", EvenCurveKeys.WRONG, keys::read);
+        DUE.number("type(0)", 1, () -> keys.type(0));
+    }
+
+    private static void type() {
+        EvenCurveKeys keys = new EvenCurveKeys();
+        int[] bytes = {0, 1, 127, 128, 255};
+        for (int round = 0; round < 3; round++) {
+            for (int count = 1; count <= 20; count++) {
+                int b = bytes[count % bytes.length];
+                DUE.number("type(" + b + ")", count, () -> keys.type(b));
+            }
+            DUE.refusal("type of a 21st", NOT_DONE, () -> keys.type(0));
+            DUE.refusal("type of a 21st", NOT_DONE, () -> keys.type(255));
+            // A wrong byte is looked at before there being room.
+            DUE.refusal("type(256)", NOT_FIT, () -> keys.type(256));
+            DUE.number("read()", EvenCurveKeys.WRONG, keys::read);
+        }
+    }
+
+    private static void typeRefuses() {
+        EvenCurveKeys keys = new EvenCurveKeys();
+        for (int b : new int[] {-1, 256, 257, -128, Integer.MIN_VALUE, Integer.MAX_VALUE}) {
+            DUE.refusal("type(" + b + ")", NOT_FIT, () -> keys.type(b));
+        }
+        DUE.number("type after throws", 1, () -> keys.type(48));
+    }
+
+    private static void reads(List<Integer> bytes, long due) {
+        EvenCurveKeys keys = new EvenCurveKeys();
+        for (int b : bytes) {
+            keys.type(b);
+        }
+        DUE.number("read of " + bytes, due, keys::read);
+    }
+
+    private static List<Integer> with(List<Integer> bytes, int at, int b) {
+        List<Integer> changed = new ArrayList<>(bytes);
+        changed.set(at, b);
+        return changed;
+    }
+
+    private static void readOfForms() {
+        for (int r : NUMBERS) {
+            for (int s : NUMBERS) {
+                reads(Model.form(r, s), r * 4294967296L + s);
+            }
+        }
+    }
+
+    private static void readOfChangedForms() {
+        int[][] pairs = {
+            {0, 0}, {5, 7}, {5, 128}, {128, 5}, {32768, 127}, {255, 8388608},
+            {2147483647, 2147483647}, {16777216, 65535}
+        };
+        for (int[] pair : pairs) {
+            List<Integer> form = Model.form(pair[0], pair[1]);
+            for (int at = 0; at < form.size(); at++) {
+                for (int b = 0; b < 256; b++) {
+                    List<Integer> changed = with(form, at, b);
+                    reads(changed, Model.readForm(changed));
+                }
+            }
+        }
+    }
+
+    private static void readOfCutAndLongForms() {
+        for (int r : new int[] {0, 128, 8388608, 2147483647}) {
+            for (int s : new int[] {0, 255, 32768, 2147483647}) {
+                List<Integer> form = Model.form(r, s);
+                for (int length = 0; length < form.size(); length++) {
+                    List<Integer> cut = form.subList(0, length);
+                    reads(cut, EvenCurveKeys.WRONG);
+                    if (length >= 2) {
+                        reads(with(cut, 1, length - 2), EvenCurveKeys.WRONG);
+                    }
+                }
+                List<Integer> longer = new ArrayList<>(form);
+                while (longer.size() < 20) {
+                    longer.add(longer.size() % 3);
+                    reads(longer, EvenCurveKeys.WRONG);
+                    reads(with(longer, 1, longer.size() - 2), EvenCurveKeys.WRONG);
+                }
+            }
+        }
+    }
+
+    private static void readOfOtherForms() {
+        // More bytes than need be, for r and for s.
+        reads(List.of(48, 7, 2, 2, 0, 5, 2, 1, 7), EvenCurveKeys.WRONG);
+        reads(List.of(48, 7, 2, 1, 5, 2, 2, 0, 127), EvenCurveKeys.WRONG);
+        reads(List.of(48, 8, 2, 3, 0, 0, 128, 2, 1, 7), EvenCurveKeys.WRONG);
+        reads(List.of(48, 7, 2, 2, 0, 0, 2, 1, 0), EvenCurveKeys.WRONG);
+        // 2147483648 and other numbers of five bytes.
+        reads(List.of(48, 10, 2, 5, 0, 128, 0, 0, 0, 2, 1, 7), EvenCurveKeys.WRONG);
+        reads(List.of(48, 10, 2, 5, 1, 0, 0, 0, 5, 2, 1, 7), EvenCurveKeys.WRONG);
+        reads(List.of(48, 10, 2, 1, 7, 2, 5, 1, 0, 0, 0, 5), EvenCurveKeys.WRONG);
+        // First bytes of 128 and more.
+        reads(List.of(48, 6, 2, 1, 128, 2, 1, 7), EvenCurveKeys.WRONG);
+        reads(List.of(48, 9, 2, 4, 255, 255, 255, 255, 2, 1, 7), EvenCurveKeys.WRONG);
+        reads(List.of(48, 9, 2, 1, 7, 2, 4, 128, 0, 0, 0), EvenCurveKeys.WRONG);
+        // No bytes, and a length that itself has a length.
+        reads(List.of(48, 4, 2, 0, 2, 0), EvenCurveKeys.WRONG);
+        reads(List.of(48, 5, 2, 0, 2, 1, 7), EvenCurveKeys.WRONG);
+        reads(List.of(48, 129, 6, 2, 1, 5, 2, 1, 7), EvenCurveKeys.WRONG);
+        reads(List.of(48, 7, 2, 129, 1, 5, 2, 1, 7), EvenCurveKeys.WRONG);
+        reads(List.of(), EvenCurveKeys.WRONG);
+    }
+
+    private static void readForgets() {
+        EvenCurveKeys keys = new EvenCurveKeys();
+        for (int round = 0; round < 2; round++) {
+            keys.type(48);
+            keys.type(9);
+            DUE.number("read of a part", EvenCurveKeys.WRONG, keys::read);
+            DUE.number("read of nothing", EvenCurveKeys.WRONG, keys::read);
+            for (int b : Model.form(5, 7)) {
+                keys.type(b);
+            }
+            DUE.number("read", 5 * 4294967296L + 7, keys::read);
+            DUE.number("read again", EvenCurveKeys.WRONG, keys::read);
+            DUE.number("type after read", 1, () -> keys.type(48));
+            DUE.number("read of one", EvenCurveKeys.WRONG, keys::read);
+        }
+    }
+}

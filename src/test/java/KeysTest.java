@@ -1,0 +1,268 @@
+import java.util.NoSuchElementException;
+
+/** Promises 1 to 8: the slots, and what is made of keys. */
+public final class KeysTest {
+    private static final Class<IndexOutOfBoundsException> NO_SLOT = IndexOutOfBoundsException.class;
+    private static final Class<NoSuchElementException> EMPTY = NoSuchElementException.class;
+    private static final Class<IllegalArgumentException> NOT_FIT = IllegalArgumentException.class;
+    private static final Class<IllegalStateException> NO_SECRET = IllegalStateException.class;
+
+    private static final int P = 1073735023;
+    private static final int N = 1073729077;
+    private static final long TWO_TO_32 = 4294967296L;
+    private static final int[] NO_SLOTS = {-1, 6, Integer.MIN_VALUE, Integer.MAX_VALUE};
+    private static final int[] NO_SCALARS = {-1, N, N + 1, Integer.MIN_VALUE, Integer.MAX_VALUE};
+    private static final int[] SECRETS = {1, 2, 3, 5, N / 2, N / 2 + 1, 123456789, N - 2, N - 1};
+
+    private static final Due DUE = new Due("KeysTest");
+
+    public static void main(String[] args) {
+        newObject();
+        secret();
+        open();
+        openOfNoCode();
+        code();
+        even();
+        tweak();
+        tweakTakesTheSecretAlong();
+        tweakRefuses();
+        combine();
+        combineRefuses();
+        linear();
+        linearRefuses();
+        DUE.end();
+    }
+
+    private static long codeOfG(long k) {
+        return Model.codeOf(Model.multipleOfG(k));
+    }
+
+    private static EvenCurveKeys withSecrets(int first, int second) {
+        EvenCurveKeys keys = new EvenCurveKeys();
+        keys.secret(0, first);
+        keys.secret(1, second);
+        return keys;
+    }
+
+    /** That a slot has the secret d, as its point and a signature show. */
+    private static void hasSecret(String after, EvenCurveKeys keys, int slot, int d) {
+        EvenCurveKeys other = new EvenCurveKeys();
+        other.secret(0, d);
+        DUE.number("code after " + after, codeOfG(d), () -> keys.code(slot));
+        DUE.number("sign after " + after, other.sign(0, 7), () -> keys.sign(slot, 7));
+    }
+
+    private static void hasNoSecret(String after, EvenCurveKeys keys, int slot, long code) {
+        DUE.number("code after " + after, code, () -> keys.code(slot));
+        DUE.refusal("sign after " + after, NO_SECRET, () -> keys.sign(slot, 7));
+    }
+
+    private static void newObject() {
+        EvenCurveKeys keys = new EvenCurveKeys();
+        for (int slot = 0; slot < 6; slot++) {
+            int asked = slot;
+            hasNoSecret("nothing", keys, slot, 0);
+            DUE.refusal("linear of an empty slot", EMPTY, () -> keys.linear(asked, 1, 1));
+        }
+        DUE.number("mark()", 0, keys::mark);
+        DUE.truth("right(1)", true, () -> keys.right(1));
+        DUE.number("read()", EvenCurveKeys.WRONG, keys::read);
+        DUE.number("type(48)", 1, () -> keys.type(48));
+        keys.secret(0, 1);
+        DUE.number("bundle(0, 0, 0, 0)", 1, () -> keys.bundle(0, 0, 0, 0));
+        DUE.number("WRONG", -1, () -> EvenCurveKeys.WRONG);
+    }
+
+    private static void secret() {
+        EvenCurveKeys keys = new EvenCurveKeys();
+        DUE.number("secret(0, 1)", 2 * TWO_TO_32 + 1, () -> keys.secret(0, 1));
+        DUE.number("secret(0, n - 1)", 3 * TWO_TO_32 + 1, () -> keys.secret(0, N - 1));
+        for (int d : SECRETS) {
+            for (int slot = 0; slot < 6; slot++) {
+                int asked = slot;
+                DUE.number("secret of " + d, codeOfG(d), () -> keys.secret(asked, d));
+            }
+            hasSecret("secret", keys, 5, d);
+        }
+        keys.secret(3, 77);
+        for (int d : new int[] {0, -1, N, N + 1, Integer.MIN_VALUE, Integer.MAX_VALUE}) {
+            DUE.refusal("secret of " + d, NOT_FIT, () -> keys.secret(3, d));
+        }
+        hasSecret("a secret that throws", keys, 3, 77);
+        for (int slot : NO_SLOTS) {
+            DUE.refusal("secret into " + slot, NO_SLOT, () -> keys.secret(slot, 1));
+            DUE.refusal("secret 0 into " + slot, NO_SLOT, () -> keys.secret(slot, 0));
+        }
+    }
+
+    private static long opened(EvenCurveKeys keys, int slot, long code) {
+        keys.open(slot, code);
+        return 0;
+    }
+
+    private static void open() {
+        EvenCurveKeys keys = new EvenCurveKeys();
+        for (int d : SECRETS) {
+            long code = codeOfG(d);
+            keys.secret(2, 9);
+            DUE.number("open of " + code, 0, () -> opened(keys, 2, code));
+            hasNoSecret("open", keys, 2, code);
+            // The point itself must be right, not its code alone.
+            DUE.number("linear after open", codeOfG(3L + 2L * d), () -> keys.linear(2, 3, 2));
+        }
+        for (int slot : NO_SLOTS) {
+            DUE.refusal("open into " + slot, NO_SLOT, () -> opened(keys, slot, codeOfG(1)));
+            DUE.refusal("open of 0 into " + slot, NO_SLOT, () -> opened(keys, slot, 0));
+        }
+    }
+
+    private static void openOfNoCode() {
+        EvenCurveKeys keys = new EvenCurveKeys();
+        keys.secret(2, 9);
+        // x = 1 is x of two points, x = 0 of none; p + 1 is 1 modulo p.
+        long[] wrong = {
+            0, 1, TWO_TO_32 + 1, 4 * TWO_TO_32 + 1, 5 * TWO_TO_32 + 1, -1,
+            Long.MIN_VALUE, Long.MAX_VALUE, Long.MIN_VALUE + 2 * TWO_TO_32 + 1,
+            -2 * TWO_TO_32 + 1, -3 * TWO_TO_32 + 1, 2 * TWO_TO_32, 3 * TWO_TO_32,
+            2 * TWO_TO_32 + P, 2 * TWO_TO_32 + P + 1, 3 * TWO_TO_32 + P + 1,
+            2 * TWO_TO_32 + P - 1, 3 * TWO_TO_32 - 1, 2 * TWO_TO_32 + (1L << 31) + 1,
+            (2 + (1L << 16)) * TWO_TO_32 + 1
+        };
+        for (long code : wrong) {
+            DUE.refusal("open of " + code, NOT_FIT, () -> opened(keys, 2, code));
+            DUE.refusal("open of " + code, NOT_FIT, () -> opened(keys, 3, code));
+        }
+        hasSecret("an open that throws", keys, 2, 9);
+        DUE.number("code(3)", 0, () -> keys.code(3));
+    }
+
+    private static void code() {
+        EvenCurveKeys keys = withSecrets(5, N - 5);
+        DUE.number("code of 5 * G", codeOfG(5), () -> keys.code(0));
+        DUE.number("code of -5 * G", codeOfG(5) + TWO_TO_32, () -> keys.code(1));
+        DUE.number("code of an empty slot", 0, () -> keys.code(2));
+        for (int slot : NO_SLOTS) {
+            DUE.refusal("code of " + slot, NO_SLOT, () -> keys.code(slot));
+        }
+    }
+
+    private static void evenAt(int x) {
+        EvenCurveKeys keys = new EvenCurveKeys();
+        long due = Model.codeOf(Model.at(Model.number(x), false));
+        DUE.number("even(" + x + ")", due, () -> keys.even(x));
+    }
+
+    private static void even() {
+        for (int i = 0; i < 300; i++) {
+            evenAt(i);
+            evenAt(N - 150 + i);
+            evenAt(P - 300 + i);
+            evenAt(i * 3578931);
+        }
+        EvenCurveKeys keys = new EvenCurveKeys();
+        for (int x : new int[] {-1, P, P + 1, P + 2, Integer.MIN_VALUE, Integer.MAX_VALUE, -P + 1}) {
+            DUE.number("even(" + x + ")", 0, () -> keys.even(x));
+        }
+    }
+
+    private static void tweak() {
+        int[] ts = {1, 2, 9, N / 2, N - 2};
+        for (int d : new int[] {5, 123456789, N - 3}) {
+            for (int t : ts) {
+                EvenCurveKeys keys = withSecrets(d, d);
+                keys.open(2, codeOfG(d));
+                keys.open(3, codeOfG(d));
+                String call = "tweak of " + d + " by " + t;
+                DUE.number(call, codeOfG((long) d + t), () -> keys.tweak(0, t, false));
+                DUE.number(call, codeOfG((long) d * t), () -> keys.tweak(1, t, true));
+                DUE.number(call, codeOfG((long) d + t), () -> keys.tweak(2, t, false));
+                DUE.number(call, codeOfG((long) d * t), () -> keys.tweak(3, t, true));
+                hasNoSecret(call, keys, 2, codeOfG((long) d + t));
+                hasNoSecret(call, keys, 3, codeOfG((long) d * t));
+                DUE.number("linear after " + call, codeOfG(3 + 2 * ((long) d + t)),
+                        () -> keys.linear(2, 3, 2));
+            }
+        }
+        EvenCurveKeys keys = withSecrets(5, 6);
+        DUE.number("tweak by + 0", codeOfG(5), () -> keys.tweak(0, 0, false));
+        DUE.number("tweak by * 1", codeOfG(6), () -> keys.tweak(1, 1, true));
+    }
+
+    private static void tweakTakesTheSecretAlong() {
+        EvenCurveKeys keys = withSecrets(N - 3, N - 3);
+        keys.tweak(0, 5, false);
+        hasSecret("a tweak over n", keys, 0, 2);
+        keys.tweak(0, N - 1, false);
+        hasSecret("a second tweak", keys, 0, 1);
+        keys.tweak(1, N - 7, true);
+        hasSecret("a tweak of products", keys, 1, 21);
+        keys.tweak(1, 0, false);
+        hasSecret("a tweak by nothing", keys, 1, 21);
+    }
+
+    private static void tweakRefuses() {
+        EvenCurveKeys keys = withSecrets(5, 6);
+        DUE.refusal("tweak to INFINITY", NOT_FIT, () -> keys.tweak(0, N - 5, false));
+        DUE.refusal("tweak by * 0", NOT_FIT, () -> keys.tweak(0, 0, true));
+        for (int t : NO_SCALARS) {
+            DUE.refusal("tweak by + " + t, NOT_FIT, () -> keys.tweak(0, t, false));
+            DUE.refusal("tweak by * " + t, NOT_FIT, () -> keys.tweak(0, t, true));
+            DUE.refusal("tweak of an empty slot", EMPTY, () -> keys.tweak(2, t, true));
+        }
+        hasSecret("tweaks that throw", keys, 0, 5);
+        for (int slot : NO_SLOTS) {
+            DUE.refusal("tweak of " + slot, NO_SLOT, () -> keys.tweak(slot, 1, false));
+            DUE.refusal("tweak of " + slot, NO_SLOT, () -> keys.tweak(slot, -1, true));
+        }
+    }
+
+    private static void combine() {
+        EvenCurveKeys keys = withSecrets(5, N - 7);
+        DUE.number("combine of two", codeOfG(-2), () -> keys.combine(2, 0, 1));
+        hasNoSecret("combine", keys, 2, codeOfG(-2));
+        DUE.number("combine of one twice", codeOfG(10), () -> keys.combine(3, 0, 0));
+        DUE.number("combine into its own", codeOfG(15), () -> keys.combine(3, 0, 3));
+        DUE.number("combine over a secret", codeOfG(8), () -> keys.combine(0, 3, 1));
+        hasNoSecret("combine over a secret", keys, 0, codeOfG(8));
+        hasSecret("combine elsewhere", keys, 1, N - 7);
+    }
+
+    private static void combineRefuses() {
+        EvenCurveKeys keys = withSecrets(5, N - 5);
+        DUE.refusal("combine to INFINITY", NOT_FIT, () -> keys.combine(0, 0, 1));
+        DUE.refusal("combine with an empty slot", EMPTY, () -> keys.combine(0, 1, 2));
+        DUE.refusal("combine with an empty slot", EMPTY, () -> keys.combine(0, 2, 1));
+        DUE.refusal("combine of empty slots", EMPTY, () -> keys.combine(0, 3, 3));
+        hasSecret("combines that throw", keys, 0, 5);
+        for (int slot : NO_SLOTS) {
+            DUE.refusal("combine into " + slot, NO_SLOT, () -> keys.combine(slot, 2, 3));
+            DUE.refusal("combine of " + slot, NO_SLOT, () -> keys.combine(0, slot, 2));
+            DUE.refusal("combine with " + slot, NO_SLOT, () -> keys.combine(0, 2, slot));
+        }
+    }
+
+    private static void linear() {
+        EvenCurveKeys keys = withSecrets(5, N - 1);
+        int[] scalars = {0, 1, 2, 5, N / 2, N - 5, N - 1};
+        for (int a : scalars) {
+            for (int b : scalars) {
+                String call = "linear of " + a + " and " + b;
+                DUE.number(call, codeOfG(a + 5L * b), () -> keys.linear(0, a, b));
+                DUE.number(call, codeOfG((long) a + N - b), () -> keys.linear(1, a, b));
+            }
+        }
+        hasSecret("linear", keys, 0, 5);
+    }
+
+    private static void linearRefuses() {
+        EvenCurveKeys keys = withSecrets(5, 6);
+        for (int wrong : NO_SCALARS) {
+            DUE.refusal("linear of a = " + wrong, NOT_FIT, () -> keys.linear(0, wrong, 1));
+            DUE.refusal("linear of b = " + wrong, NOT_FIT, () -> keys.linear(0, 1, wrong));
+            DUE.refusal("linear of an empty slot", EMPTY, () -> keys.linear(2, wrong, 1));
+        }
+        for (int slot : NO_SLOTS) {
+            DUE.refusal("linear of " + slot, NO_SLOT, () -> keys.linear(slot, 1, -1));
+        }
+    }
+}

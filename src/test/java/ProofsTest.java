@@ -1,0 +1,333 @@
+import java.math.BigInteger;
+import java.util.NoSuchElementException;
+
+/** Promises 13 to 17: proofs, bundles of them, and agreed secrets. */
+public final class ProofsTest {
+    private static final Class<IndexOutOfBoundsException> NO_SLOT = IndexOutOfBoundsException.class;
+    private static final Class<NoSuchElementException> EMPTY = NoSuchElementException.class;
+    private static final Class<IllegalStateException> NO_SECRET = IllegalStateException.class;
+    private static final Class<UnsupportedOperationException> NOT_DONE =
+            UnsupportedOperationException.class;
+
+    private static final int P = 1073735023;
+    private static final int N = 1073729077;
+    private static final int[] NO_SLOTS = {-1, 6, Integer.MIN_VALUE, Integer.MAX_VALUE};
+    private static final int[] SECRETS = {1, 2, 3, 5, 6, N / 2, 123456789, N - 2, N - 1};
+
+    private static final Due DUE = new Due("ProofsTest");
+
+    public static void main(String[] args) {
+        prove();
+        proveWithoutK();
+        proveRefuses();
+        holds();
+        holdsForAnyNonce();
+        holdsRefuses();
+        bundleCounts();
+        bundleRefuses();
+        bundleKeepsThePoint();
+        right();
+        rightWithWrongItems();
+        rightWeighsItsItems();
+        agree();
+        agreeRefuses();
+        DUE.end();
+    }
+
+    private static int high(long pair) {
+        return (int) (pair >>> 32);
+    }
+
+    private static int low(long pair) {
+        return (int) pair;
+    }
+
+    private static EvenCurveKeys withSecrets(int first, int second) {
+        EvenCurveKeys keys = new EvenCurveKeys();
+        keys.secret(0, first);
+        keys.secret(1, second);
+        return keys;
+    }
+
+    /** The secret of the even point with the same x. */
+    private static long evenSecret(int d) {
+        return Model.multipleOfG(d).isOdd() ? N - d : d;
+    }
+
+    private static int scalar(BigInteger value) {
+        return value.mod(Model.N).intValue();
+    }
+
+    /** The s with which this rx holds, if k * G is the even point with the x rx. */
+    private static int proofFor(int d, long message, int rx, long k) {
+        BigInteger px = Model.multipleOfG(d).x();
+        BigInteger e = Model.challenge(Model.number(rx), px, message);
+        return scalar(e.multiply(Model.number(evenSecret(d))).add(Model.number(k)));
+    }
+
+    private static void prove() {
+        EvenCurveKeys known = withSecrets(5, 6);
+        DUE.number("prove(0, 7, 1)", 1722260626409278056L, () -> known.prove(0, 7, 1));
+        for (int d : SECRETS) {
+            EvenCurveKeys keys = withSecrets(d, 1);
+            Model model = new Model();
+            model.secret(0, d);
+            for (long message : new long[] {0, 7, -1, Long.MIN_VALUE, Long.MAX_VALUE}) {
+                for (long aux : new long[] {0, 1, -5, 1L << 50}) {
+                    long due = model.prove(0, message, aux);
+                    DUE.number("prove of " + message, due, () -> keys.prove(0, message, aux));
+                    DUE.truth("holds of " + message, true,
+                            () -> keys.holds(0, message, high(due), low(due)));
+                }
+            }
+        }
+    }
+
+    /** The message for which prove takes k before it is taken modulo n. */
+    private static long messageForK(int d, long aux, long k) {
+        long masked = evenSecret(d) ^ (Model.h(aux, 23) >>> 34);
+        long inner = Model.h(masked, Model.multipleOfG(d).x().longValue());
+        return Unmix.second(k << 33, inner);
+    }
+
+    private static void proveWithoutK() {
+        for (int d : new int[] {1, 5, N - 1}) {
+            EvenCurveKeys keys = withSecrets(d, 1);
+            Model model = new Model();
+            model.secret(0, d);
+            for (long k : new long[] {0, N, 2L * N}) {
+                long none = messageForK(d, 3, k);
+                long one = messageForK(d, 3, k + 1);
+                DUE.refusal("prove with k = 0", NOT_DONE, () -> keys.prove(0, none, 3));
+                DUE.number("prove with k = 1", model.prove(0, one, 3), () -> keys.prove(0, one, 3));
+            }
+            long last = messageForK(d, 3, N - 1);
+            DUE.number("prove with k = -1", model.prove(0, last, 3), () -> keys.prove(0, last, 3));
+        }
+    }
+
+    private static void proveRefuses() {
+        EvenCurveKeys keys = withSecrets(5, 6);
+        keys.open(2, keys.code(0));
+        DUE.refusal("prove without a secret", NO_SECRET, () -> keys.prove(2, 7, 1));
+        DUE.refusal("prove of an empty slot", NO_SECRET, () -> keys.prove(3, 7, 1));
+        for (int slot : NO_SLOTS) {
+            DUE.refusal("prove of slot " + slot, NO_SLOT, () -> keys.prove(slot, 7, 1));
+        }
+    }
+
+    private static void holds() {
+        EvenCurveKeys keys = withSecrets(5, 6);
+        keys.secret(2, N - 5);
+        keys.open(3, keys.code(0));
+        int rx = 400995050;
+        int s = 801393256;
+        DUE.truth("holds", true, () -> keys.holds(0, 7, rx, s));
+        DUE.truth("holds for the twin point", true, () -> keys.holds(2, 7, rx, s));
+        DUE.truth("holds without a secret", true, () -> keys.holds(3, 7, rx, s));
+        DUE.truth("holds for another point", false, () -> keys.holds(1, 7, rx, s));
+        DUE.truth("holds for another message", false, () -> keys.holds(0, 8, rx, s));
+        DUE.truth("holds for rx + 1", false, () -> keys.holds(0, 7, rx + 1, s));
+        DUE.truth("holds for s + 1", false, () -> keys.holds(0, 7, rx, s + 1));
+        DUE.truth("holds for -s", false, () -> keys.holds(0, 7, rx, N - s));
+        for (int wrong : new int[] {P, P + 1, 1 - P, -1}) {
+            int fitting = proofFor(5, 7, wrong, 1);
+            DUE.truth("holds of rx = " + wrong, false, () -> keys.holds(0, 7, wrong, fitting));
+        }
+        for (int wrong : new int[] {-1, N, P, Integer.MIN_VALUE, Integer.MAX_VALUE}) {
+            DUE.truth("holds of s = " + wrong, false, () -> keys.holds(0, 7, rx, wrong));
+            DUE.truth("holds of rx = " + wrong, false, () -> keys.holds(0, 7, wrong, s));
+        }
+    }
+
+    private static void holdsForAnyNonce() {
+        for (int d : SECRETS) {
+            EvenCurveKeys keys = withSecrets(d, 1);
+            for (int k : new int[] {1, 2, 3, 4, 5, 6, N - 1, N - 2}) {
+                Model.Point nonce = Model.multipleOfG(k);
+                int rx = nonce.x().intValue();
+                int s = proofFor(d, 11, rx, k);
+                DUE.truth("holds of k = " + k, !nonce.isOdd(), () -> keys.holds(0, 11, rx, s));
+            }
+            // INFINITY has no x, and is not even: a proof of 0 * G holds with no rx.
+            int none = proofFor(d, 11, 0, 0);
+            DUE.truth("holds of INFINITY", false, () -> keys.holds(0, 11, 0, none));
+        }
+        // s in n .. 2147483647 is none even where it would do modulo n.
+        EvenCurveKeys keys = withSecrets(5, 6);
+        DUE.truth("holds of s + n", false, () -> keys.holds(0, 7, 400995050, 801393256 + N));
+    }
+
+    private static void holdsRefuses() {
+        EvenCurveKeys keys = withSecrets(5, 6);
+        DUE.refusal("holds of an empty slot", EMPTY, () -> keys.holds(2, 7, 1, 1) ? 1 : 0);
+        DUE.refusal("holds of an empty slot", EMPTY, () -> keys.holds(2, 7, -1, -1) ? 1 : 0);
+        for (int slot : NO_SLOTS) {
+            DUE.refusal("holds of slot " + slot, NO_SLOT, () -> keys.holds(slot, 7, -1, 1) ? 1 : 0);
+        }
+    }
+
+    private static void bundleCounts() {
+        EvenCurveKeys keys = withSecrets(5, 6);
+        for (int round = 0; round < 3; round++) {
+            for (int count = 1; count <= 8; count++) {
+                int rx = round == 0 ? Integer.MIN_VALUE : Integer.MAX_VALUE;
+                DUE.number("bundle", count, () -> keys.bundle(0, 7, rx, -rx));
+            }
+            DUE.refusal("bundle of a ninth", NOT_DONE, () -> keys.bundle(0, 7, 1, 1));
+            DUE.refusal("bundle of a tenth", NOT_DONE, () -> keys.bundle(0, 7, 1, 1));
+            DUE.truth("right", false, () -> keys.right(1));
+        }
+        DUE.truth("right after right", true, () -> keys.right(1));
+    }
+
+    private static void bundleRefuses() {
+        EvenCurveKeys keys = withSecrets(5, 6);
+        for (int round = 0; round < 2; round++) {
+            DUE.refusal("bundle of an empty slot", EMPTY, () -> keys.bundle(2, 7, 1, 1));
+            for (int slot : NO_SLOTS) {
+                DUE.refusal("bundle of slot " + slot, NO_SLOT, () -> keys.bundle(slot, 7, 1, 1));
+            }
+            // In the second round the bundle is full, which is looked at last.
+            for (int i = 0; i < 8 && round == 0; i++) {
+                DUE.number("bundle after throws", i + 1, () -> keys.bundle(0, 7, 1, 1));
+            }
+        }
+    }
+
+    private static void put(EvenCurveKeys keys, int slot, long message, long aux) {
+        long proof = keys.prove(slot, message, aux);
+        keys.bundle(slot, message, high(proof), low(proof));
+    }
+
+    private static void bundleKeepsThePoint() {
+        EvenCurveKeys keys = withSecrets(5, 6);
+        put(keys, 0, 7, 1);
+        keys.secret(0, 123);
+        put(keys, 0, 8, 2);
+        keys.tweak(0, 3, true);
+        put(keys, 0, 9, 3);
+        keys.combine(0, 0, 1);
+        DUE.truth("right after the slots changed", true, () -> keys.right(4));
+        long proof = keys.prove(1, 7, 1);
+        keys.secret(1, 77);
+        keys.bundle(1, 7, high(proof), low(proof));
+        DUE.truth("right of a changed slot", false, () -> keys.right(4));
+    }
+
+    private static void right() {
+        for (int count = 0; count <= 8; count++) {
+            for (int broken = -1; broken < count; broken++) {
+                EvenCurveKeys keys = new EvenCurveKeys();
+                for (int i = 0; i < count; i++) {
+                    keys.secret(i % 6, SECRETS[i]);
+                    long proof = keys.prove(i % 6, i, 5);
+                    int s = (low(proof) + (i == broken ? 1 : 0)) % N;
+                    keys.bundle(i % 6, i, high(proof), s);
+                }
+                String call = "right of " + count + " with " + broken + " broken";
+                boolean due = broken == -1;
+                DUE.truth(call, due, () -> keys.right(99));
+                DUE.truth("right after right", true, () -> keys.right(99));
+            }
+        }
+    }
+
+    private static void rightWithWrongItems() {
+        EvenCurveKeys keys = withSecrets(5, N - 6);
+        long proof = keys.prove(1, 7, 1);
+        int rx = high(proof);
+        int s = low(proof);
+        // 0 is x of no point. The last four would do modulo p or n: R is G there, with the x 1.
+        int[][] wrong = {
+            {1, rx, -1}, {1, rx, N}, {1, rx, Integer.MAX_VALUE}, {1, rx, Integer.MIN_VALUE},
+            {1, 0, s}, {1, -1, s}, {1, P, s}, {1, Integer.MIN_VALUE, s}, {1, Integer.MAX_VALUE, s},
+            {0, 1, proofFor(5, 7, 1, 1) + N}, {0, 1, proofFor(5, 7, 1, 1) - N},
+            {0, P + 1, proofFor(5, 7, P + 1, 1)}, {0, 1 - P, proofFor(5, 7, 1 - P, 1)}
+        };
+        for (int[] item : wrong) {
+            for (int place = 0; place < 3; place++) {
+                for (int i = 0; i < 3; i++) {
+                    if (i == place) {
+                        keys.bundle(item[0], 7, item[1], item[2]);
+                    } else {
+                        keys.bundle(1, 7, rx, s);
+                    }
+                }
+                DUE.truth("right of a wrong item", false, () -> keys.right(5));
+                DUE.truth("right after it", true, () -> keys.right(5));
+            }
+        }
+        keys.bundle(0, 7, 1, proofFor(5, 7, 1, 1));
+        DUE.truth("right of R = G", true, () -> keys.right(5));
+    }
+
+    /** Items that are all wrong, but by just so much that with one seed they make up for it. */
+    private static void forged(long seed, int places, boolean due, long tried) {
+        EvenCurveKeys keys = withSecrets(5, N - 6);
+        BigInteger amount = BigInteger.ZERO;
+        for (int i = 0; i < places; i++) {
+            BigInteger by = Model.number(1000 + i);
+            long proof = keys.prove(i % 2, i, 1);
+            if (i == places - 1) {
+                BigInteger over = Model.weight(seed, i).modInverse(Model.N);
+                by = amount.negate().multiply(over).mod(Model.N);
+            }
+            amount = amount.add(Model.weight(seed, i).multiply(by));
+            int s = scalar(Model.number(low(proof)).add(by));
+            int place = i;
+            DUE.truth("holds alone", false, () -> keys.holds(place % 2, place, high(proof), s));
+            keys.bundle(place % 2, place, high(proof), s);
+        }
+        DUE.truth("right of a forged bundle of " + places, due, () -> keys.right(tried));
+    }
+
+    private static void rightWeighsItsItems() {
+        for (int places = 2; places <= 8; places++) {
+            for (long seed : new long[] {0, 1, -1, Long.MIN_VALUE, 987654321987654321L}) {
+                forged(seed, places, true, seed);
+                forged(seed, places, false, seed + 1);
+            }
+        }
+        // Seeds for which H >>> 34 is n - 2, n - 1 and n: the weights n - 1, 1 and 2.
+        for (int i = 0; i < 3; i++) {
+            long seed = Unmix.first((N - 2L + i) << 34, 1);
+            long due = i == 0 ? N - 1 : i;
+            DUE.number("weight", due, () -> Model.weight(seed, 1).longValue());
+            forged(seed, 2, true, seed);
+        }
+    }
+
+    private static void agree() {
+        EvenCurveKeys keys = withSecrets(5, 6);
+        DUE.number("agree(0, 1)", 5275914785039091363L, () -> keys.agree(0, 1));
+        for (int d : SECRETS) {
+            for (int e : SECRETS) {
+                EvenCurveKeys two = withSecrets(d, e);
+                Model.Point shared = Model.multipleOfG((long) d * e);
+                long due = Model.h(shared.x().longValue(), shared.y().longValue());
+                DUE.number("agree", due, () -> two.agree(0, 1));
+                DUE.number("agree back", due, () -> two.agree(1, 0));
+                two.open(1, two.code(1));
+                DUE.number("agree with an open key", due, () -> two.agree(0, 1));
+            }
+        }
+        Model.Point own = Model.multipleOfG(25);
+        long due = Model.h(own.x().longValue(), own.y().longValue());
+        DUE.number("agree with itself", due, () -> keys.agree(0, 0));
+    }
+
+    private static void agreeRefuses() {
+        EvenCurveKeys keys = withSecrets(5, 6);
+        keys.open(2, keys.code(0));
+        DUE.refusal("agree without a secret", NO_SECRET, () -> keys.agree(2, 0));
+        DUE.refusal("agree of an empty slot", NO_SECRET, () -> keys.agree(3, 0));
+        DUE.refusal("agree of two empty slots", NO_SECRET, () -> keys.agree(3, 4));
+        DUE.refusal("agree with an empty slot", EMPTY, () -> keys.agree(0, 3));
+        for (int slot : NO_SLOTS) {
+            DUE.refusal("agree of slot " + slot, NO_SLOT, () -> keys.agree(slot, 3));
+            DUE.refusal("agree with slot " + slot, NO_SLOT, () -> keys.agree(0, slot));
+            DUE.refusal("agree with slot " + slot, NO_SLOT, () -> keys.agree(3, slot));
+        }
+    }
+}

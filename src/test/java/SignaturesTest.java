@@ -1,0 +1,285 @@
+import java.math.BigInteger;
+import java.util.NoSuchElementException;
+
+/** Promises 9 to 12: signatures, their marks, and the keys found again from them. */
+public final class SignaturesTest {
+    private static final Class<IndexOutOfBoundsException> NO_SLOT = IndexOutOfBoundsException.class;
+    private static final Class<NoSuchElementException> EMPTY = NoSuchElementException.class;
+    private static final Class<IllegalArgumentException> NOT_FIT = IllegalArgumentException.class;
+    private static final Class<IllegalStateException> NO_SECRET = IllegalStateException.class;
+
+    private static final int P = 1073735023;
+    private static final int N = 1073729077;
+    private static final int HALF = (N - 1) / 2;
+
+    /** Secrets and messages whose R has an x of n or more: d, message, mark. */
+    private static final int[][] HIGH_X = {
+        {585553178, 155926, 3}, {865478461, 174605, 2}, {552640325, 460784, 3},
+        {518321235, 493461, 2}, {1064353456, 845273, 3}, {1043204932, 1293084, 2}
+    };
+
+    /** Secrets and digests whose first k that is 1 .. n - 1 gives s = 0: d, digest, that k's r. */
+    private static final int[][] ZERO_S = {
+        {5, 51477832, 204450249}, {5, 113598063, 836263649}, {6, 650146817, 786416428},
+        {9, 1063570365, 955554592}
+    };
+
+    private static final Due DUE = new Due("SignaturesTest");
+
+    public static void main(String[] args) {
+        sign();
+        signWithHighDigest();
+        signPassesOverZero();
+        signRefuses();
+        marks();
+        markStays();
+        good();
+        goodAtItsEdges();
+        goodRefuses();
+        recover();
+        recoverOfHighX();
+        recoverAtItsEdges();
+        recoverRefuses();
+        DUE.end();
+    }
+
+    private static int high(long pair) {
+        return (int) (pair >>> 32);
+    }
+
+    private static int low(long pair) {
+        return (int) pair;
+    }
+
+    private static EvenCurveKeys withSecret(int d) {
+        EvenCurveKeys keys = new EvenCurveKeys();
+        keys.secret(0, d);
+        return keys;
+    }
+
+    /** Holds a signature and its mark against the model's. */
+    private static long signed(int d, long message) {
+        EvenCurveKeys keys = withSecret(d);
+        Model model = new Model();
+        model.secret(0, d);
+        long due = model.sign(0, message);
+        String call = "sign of " + message + " with " + d;
+        DUE.number(call, due, () -> keys.sign(0, message));
+        DUE.number("mark after " + call, model.mark(), keys::mark);
+        DUE.truth("good after " + call, true, () -> keys.good(0, message, high(due), low(due)));
+        int mark = model.mark();
+        DUE.number("recover after " + call, model.code(0),
+                () -> keys.recover(1, message, high(due), low(due), mark));
+        return due;
+    }
+
+    private static void sign() {
+        EvenCurveKeys keys = withSecret(5);
+        DUE.number("sign(0, 7)", 3753173926405257435L, () -> keys.sign(0, 7));
+        DUE.number("sign(0, 7) again", 3753173926405257435L, () -> keys.sign(0, 7));
+        for (int d : new int[] {1, 2, 5, HALF, HALF + 1, 123456789, N - 1}) {
+            for (long message : new long[] {0, 1, -1, 7, Long.MIN_VALUE, Long.MAX_VALUE, 1L << 40}) {
+                signed(d, message);
+            }
+        }
+    }
+
+    private static void signWithHighDigest() {
+        for (long z : new long[] {0, 1, N - 1, N, N + 1, (1 << 30) - 1}) {
+            long message = Unmix.messageOf(z);
+            DUE.number("digest of " + message, z, () -> Model.digest(message));
+            signed(5, message);
+            signed(123456789, message);
+        }
+    }
+
+    private static void signPassesOverZero() {
+        for (int[] row : ZERO_S) {
+            long signature = signed(row[0], Unmix.messageOf(row[1]));
+            DUE.truth("sign with s = 0 first", false, () -> high(signature) == row[2]);
+        }
+    }
+
+    private static void signRefuses() {
+        EvenCurveKeys keys = withSecret(5);
+        keys.open(1, keys.code(0));
+        DUE.refusal("sign without a secret", NO_SECRET, () -> keys.sign(1, 7));
+        DUE.refusal("sign of an empty slot", NO_SECRET, () -> keys.sign(2, 7));
+        for (int slot : new int[] {-1, 6, Integer.MIN_VALUE, Integer.MAX_VALUE}) {
+            DUE.refusal("sign of slot " + slot, NO_SLOT, () -> keys.sign(slot, 7));
+        }
+    }
+
+    private static void marks() {
+        EvenCurveKeys keys = withSecret(5);
+        boolean[] seen = new boolean[2];
+        for (int message = 0; message < 20; message++) {
+            signed(5, message);
+            keys.sign(0, message);
+            seen[keys.mark()] = true;
+        }
+        DUE.truth("both marks come", true, () -> seen[0] && seen[1]);
+        for (int[] row : HIGH_X) {
+            EvenCurveKeys other = withSecret(row[0]);
+            long signature = signed(row[0], row[1]);
+            DUE.number("sign with a high x", signature, () -> other.sign(0, row[1]));
+            DUE.number("mark of a high x", row[2], other::mark);
+        }
+    }
+
+    private static void markStays() {
+        EvenCurveKeys keys = withSecret(HIGH_X[0][0]);
+        keys.sign(0, HIGH_X[0][1]);
+        DUE.refusal("sign of an empty slot", NO_SECRET, () -> keys.sign(1, 0));
+        DUE.refusal("sign of no slot", NO_SLOT, () -> keys.sign(6, 0));
+        DUE.number("mark after throws", 3, keys::mark);
+        keys.prove(0, 1, 2);
+        keys.good(0, 1, 2, 3);
+        keys.recover(1, 1, 1, 1, 0);
+        keys.secret(0, 5);
+        DUE.number("mark after other calls", 3, keys::mark);
+        keys.sign(0, 7);
+        DUE.number("mark after another sign", 0, keys::mark);
+    }
+
+    private static void good() {
+        EvenCurveKeys keys = withSecret(5);
+        keys.secret(1, N - 5);
+        keys.secret(2, 6);
+        int r = 873853901;
+        int s = 128235739;
+        keys.open(3, keys.code(0));
+        DUE.truth("good", true, () -> keys.good(0, 7, r, s));
+        DUE.truth("good without a secret", true, () -> keys.good(3, 7, r, s));
+        DUE.truth("good of the other s", false, () -> keys.good(0, 7, r, N - s));
+        DUE.truth("good of another message", false, () -> keys.good(0, 8, r, s));
+        DUE.truth("good of the twin point", false, () -> keys.good(1, 7, r, s));
+        DUE.truth("good of another point", false, () -> keys.good(2, 7, r, s));
+        DUE.truth("good of r + 1", false, () -> keys.good(0, 7, r + 1, s));
+        DUE.truth("good of s + 1", false, () -> keys.good(0, 7, r, s + 1));
+        DUE.truth("good of -r", false, () -> keys.good(0, 7, -r, s));
+        DUE.truth("good of -s", false, () -> keys.good(0, 7, r, -s));
+        int[] outside = {0, -1, N, N + 1, P, Integer.MIN_VALUE, Integer.MAX_VALUE};
+        for (int wrong : outside) {
+            DUE.truth("good of r = " + wrong, false, () -> keys.good(0, 7, wrong, s));
+            DUE.truth("good of s = " + wrong, false, () -> keys.good(0, 7, r, wrong));
+        }
+    }
+
+    /** A secret d for which r and s sign the message, R being k * G. */
+    private static int secretFor(long message, int k, int s) {
+        BigInteger r = Model.multipleOfG(k).x().mod(Model.N);
+        BigInteger z = Model.number(Model.digest(message));
+        BigInteger product = Model.number(s).multiply(Model.number(k));
+        return product.subtract(z).multiply(r.modInverse(Model.N)).mod(Model.N).intValue();
+    }
+
+    private static void goodAtItsEdges() {
+        for (int s : new int[] {1, 2, HALF - 1, HALF, HALF + 1, HALF + 2, N - 1}) {
+            for (int k : new int[] {1, 2, 77}) {
+                int r = Model.multipleOfG(k).x().mod(Model.N).intValue();
+                EvenCurveKeys keys = withSecret(secretFor(9, k, s));
+                DUE.truth("good of s = " + s, s <= HALF, () -> keys.good(0, 9, r, s));
+            }
+        }
+        // With z + r * d = 0 the sum of u * G and v * P is INFINITY, whatever s is.
+        for (int d : new int[] {1, 5, N - 1}) {
+            EvenCurveKeys keys = withSecret(d);
+            BigInteger over = Model.number(d).modInverse(Model.N);
+            int r = Model.number(-Model.digest(4)).multiply(over).mod(Model.N).intValue();
+            for (int s : new int[] {1, 2, r, HALF}) {
+                DUE.truth("good of INFINITY", false, () -> keys.good(0, 4, r, s));
+            }
+        }
+    }
+
+    private static void goodRefuses() {
+        EvenCurveKeys keys = withSecret(5);
+        DUE.refusal("good of an empty slot", EMPTY, () -> keys.good(1, 7, 1, 1) ? 1 : 0);
+        DUE.refusal("good of an empty slot", EMPTY, () -> keys.good(1, 7, 0, 0) ? 1 : 0);
+        for (int slot : new int[] {-1, 6, Integer.MIN_VALUE, Integer.MAX_VALUE}) {
+            DUE.refusal("good of slot " + slot, NO_SLOT, () -> keys.good(slot, 7, 0, 0) ? 1 : 0);
+        }
+    }
+
+    private static void recover() {
+        EvenCurveKeys keys = withSecret(5);
+        int r = 873853901;
+        int s = 128235739;
+        long code = keys.code(0);
+        keys.secret(1, 9);
+        DUE.number("recover", code, () -> keys.recover(1, 7, r, s, 0));
+        DUE.number("code after recover", code, () -> keys.code(1));
+        DUE.refusal("sign after recover", NO_SECRET, () -> keys.sign(1, 7));
+        DUE.truth("good after recover", true, () -> keys.good(1, 7, r, s));
+        DUE.number("recover of the other s", code, () -> keys.recover(2, 7, r, N - s, 1));
+        Model model = new Model();
+        for (long message : new long[] {0, 7, -1, Unmix.messageOf(0), Unmix.messageOf(N)}) {
+            for (int given : new int[] {1, 2, HALF, HALF + 1, N - 1}) {
+                for (int mark = 0; mark < 2; mark++) {
+                    int asked = mark;
+                    DUE.number("recover", model.recover(0, message, r, given, mark),
+                            () -> keys.recover(3, message, r, given, asked));
+                    DUE.number("code after recover", model.code(0), () -> keys.code(3));
+                }
+            }
+        }
+    }
+
+    private static void recoverOfHighX() {
+        for (int[] row : HIGH_X) {
+            EvenCurveKeys keys = withSecret(row[0]);
+            long signature = keys.sign(0, row[1]);
+            int r = high(signature);
+            int s = low(signature);
+            int mark = row[2];
+            DUE.number("recover of a high x", keys.code(0),
+                    () -> keys.recover(1, row[1], r, s, mark));
+            DUE.number("recover of its twin", keys.code(0),
+                    () -> keys.recover(2, row[1], r, N - s, mark ^ 1));
+            DUE.truth("good of a high x", true, () -> keys.good(1, row[1], r, s));
+        }
+    }
+
+    private static void recoverAtItsEdges() {
+        Model model = new Model();
+        EvenCurveKeys keys = withSecret(9);
+        // Around p - n: the highest r whose r + n is a field number, and the first that is none.
+        for (int r = 1; r < 40; r++) {
+            for (int asked : new int[] {r, P - N - 20 + r, N - r}) {
+                for (int mark = 0; mark <= 3; mark++) {
+                    int given = mark;
+                    String due = Due.outcome(() -> model.recover(1, 3, asked, 5, given));
+                    String got = Due.outcome(() -> keys.recover(1, 3, asked, 5, given));
+                    DUE.same("recover of r = " + asked + ", mark " + mark, got, due);
+                }
+            }
+        }
+        // With s * k = z the point is INFINITY.
+        for (int k : new int[] {1, 2, 5}) {
+            Model.Point nonce = Model.multipleOfG(k);
+            BigInteger z = Model.number(Model.digest(3));
+            int s = z.multiply(Model.number(k).modInverse(Model.N)).mod(Model.N).intValue();
+            int mark = nonce.isOdd() ? 1 : 0;
+            int r = nonce.x().intValue();
+            DUE.refusal("recover of INFINITY", NOT_FIT, () -> keys.recover(0, 3, r, s, mark));
+        }
+        DUE.truth("the secret is still there", true, () -> keys.sign(0, 1) != 0);
+    }
+
+    private static void recoverRefuses() {
+        EvenCurveKeys keys = withSecret(5);
+        for (int wrong : new int[] {0, -1, N, N + 1, P, Integer.MIN_VALUE, Integer.MAX_VALUE}) {
+            DUE.refusal("recover of r = " + wrong, NOT_FIT, () -> keys.recover(0, 7, wrong, 1, 0));
+            DUE.refusal("recover of r = " + wrong, NOT_FIT, () -> keys.recover(0, 7, wrong, 1, 2));
+            DUE.refusal("recover of s = " + wrong, NOT_FIT, () -> keys.recover(0, 7, 1, wrong, 0));
+        }
+        for (int mark : new int[] {-1, 4, 5, -4, Integer.MIN_VALUE, Integer.MAX_VALUE}) {
+            DUE.refusal("recover of mark " + mark, NOT_FIT, () -> keys.recover(0, 7, 1, 1, mark));
+        }
+        for (int slot : new int[] {-1, 6, Integer.MIN_VALUE, Integer.MAX_VALUE}) {
+            DUE.refusal("recover into " + slot, NO_SLOT, () -> keys.recover(slot, 7, 0, 1, 9));
+        }
+        DUE.number("sign after throws", 3753173926405257435L, () -> keys.sign(0, 7));
+    }
+}
