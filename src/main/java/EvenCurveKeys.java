@@ -382,7 +382,7 @@ public final class EvenCurveKeys {
             return isOdd(point) ? negative(point) : point;
         }
 
-        /** The even or odd point with this x, which may be any number; INFINITY if there is none. */
+        /** The even or odd point with this x, any number; INFINITY if there is none. */
         static long pointAt(long x, boolean odd) {
             if (!Field.has(x)) {
                 return INFINITY;

@@ -1,3 +1,4 @@
+import java.util.NoSuchElementException;
 import java.util.function.BooleanSupplier;
 import java.util.function.LongSupplier;
 
@@ -40,8 +41,24 @@ final class Due {
         number(call, want ? 1 : 0, () -> got.getAsBoolean() ? 1 : 0);
     }
 
-    void refusal(String call, Class<? extends RuntimeException> want, LongSupplier got) {
-        same(call, outcome(got), thrown(want));
+    void noSlot(String call, LongSupplier got) {
+        same(call, outcome(got), thrown(IndexOutOfBoundsException.class));
+    }
+
+    void empty(String call, LongSupplier got) {
+        same(call, outcome(got), thrown(NoSuchElementException.class));
+    }
+
+    void noSecret(String call, LongSupplier got) {
+        same(call, outcome(got), thrown(IllegalStateException.class));
+    }
+
+    void notFit(String call, LongSupplier got) {
+        same(call, outcome(got), thrown(IllegalArgumentException.class));
+    }
+
+    void notDone(String call, LongSupplier got) {
+        same(call, outcome(got), thrown(UnsupportedOperationException.class));
     }
 
     void end() {

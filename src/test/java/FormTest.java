@@ -3,10 +3,6 @@ import java.util.List;
 
 /** Promises 18 to 20: the written form, and how strictly it is read. */
 public final class FormTest {
-    private static final Class<IllegalArgumentException> NOT_FIT = IllegalArgumentException.class;
-    private static final Class<UnsupportedOperationException> NOT_DONE =
-            UnsupportedOperationException.class;
-
     /** Each last number of so many bytes and the next one, and where the first byte is 128. */
     private static final int[] NUMBERS = {
         0, 1, 5, 127, 128, 129, 255, 256, 32767, 32768, 32769, 65535, 65536, 8388607, 8388608,
@@ -23,6 +19,7 @@ public final class FormTest {
         readOfForms();
         readOfChangedForms();
         readOfCutAndLongForms();
+        readOfWrongLengths();
         readOfOtherForms();
         readForgets();
         DUE.end();
@@ -39,7 +36,7 @@ public final class FormTest {
                     int asked = i;
                     DUE.number("byte " + i + of, form.get(i), () -> keys.written(r, s, asked));
                 }
-                DUE.refusal("byte past the last" + of, NOT_FIT,
+                DUE.notFit("byte past the last" + of,
                         () -> keys.written(r, s, form.size()));
             }
         }
@@ -50,12 +47,12 @@ public final class FormTest {
         for (int wrong : new int[] {-1, -128, Integer.MIN_VALUE}) {
             for (int i = -1; i < 8; i++) {
                 int asked = i;
-                DUE.refusal("written of r = " + wrong, NOT_FIT, () -> keys.written(wrong, 1, asked));
-                DUE.refusal("written of s = " + wrong, NOT_FIT, () -> keys.written(1, wrong, asked));
+                DUE.notFit("written of r = " + wrong, () -> keys.written(wrong, 1, asked));
+                DUE.notFit("written of s = " + wrong, () -> keys.written(1, wrong, asked));
             }
         }
         for (int i : new int[] {-2, -3, 8, 9, 20, Integer.MIN_VALUE, Integer.MAX_VALUE}) {
-            DUE.refusal("written's byte " + i, NOT_FIT, () -> keys.written(1, 1, i));
+            DUE.notFit("written's byte " + i, () -> keys.written(1, 1, i));
         }
         DUE.number("read()", EvenCurveKeys.WRONG, keys::read);
         DUE.number("type(0)", 1, () -> keys.type(0));
@@ -69,10 +66,10 @@ public final class FormTest {
                 int b = bytes[count % bytes.length];
                 DUE.number("type(" + b + ")", count, () -> keys.type(b));
             }
-            DUE.refusal("type of a 21st", NOT_DONE, () -> keys.type(0));
-            DUE.refusal("type of a 21st", NOT_DONE, () -> keys.type(255));
+            DUE.notDone("type of a 21st", () -> keys.type(0));
+            DUE.notDone("type of a 21st", () -> keys.type(255));
             // A wrong byte is looked at before there being room.
-            DUE.refusal("type(256)", NOT_FIT, () -> keys.type(256));
+            DUE.notFit("type(256)", () -> keys.type(256));
             DUE.number("read()", EvenCurveKeys.WRONG, keys::read);
         }
     }
@@ -80,7 +77,7 @@ public final class FormTest {
     private static void typeRefuses() {
         EvenCurveKeys keys = new EvenCurveKeys();
         for (int b : new int[] {-1, 256, 257, -128, Integer.MIN_VALUE, Integer.MAX_VALUE}) {
-            DUE.refusal("type(" + b + ")", NOT_FIT, () -> keys.type(b));
+            DUE.notFit("type(" + b + ")", () -> keys.type(b));
         }
         DUE.number("type after throws", 1, () -> keys.type(48));
     }
@@ -140,6 +137,22 @@ public final class FormTest {
                     reads(longer, EvenCurveKeys.WRONG);
                     reads(with(longer, 1, longer.size() - 2), EvenCurveKeys.WRONG);
                 }
+            }
+        }
+    }
+
+    /** With all the bytes that can be typed, lengths that point at the last ones and beyond. */
+    private static void readOfWrongLengths() {
+        List<Integer> full = new ArrayList<>(Model.form(5, 7));
+        while (full.size() < 20) {
+            full.add(2);
+        }
+        for (int rBytes = 0; rBytes < 256; rBytes++) {
+            List<Integer> changed = with(full, 3, rBytes);
+            reads(changed, EvenCurveKeys.WRONG);
+            for (int count = 0; count < 20; count++) {
+                List<Integer> part = changed.subList(0, count);
+                reads(part, Model.readForm(part));
             }
         }
     }

@@ -1,12 +1,5 @@
-import java.util.NoSuchElementException;
-
 /** Promises 1 to 8: the slots, and what is made of keys. */
 public final class KeysTest {
-    private static final Class<IndexOutOfBoundsException> NO_SLOT = IndexOutOfBoundsException.class;
-    private static final Class<NoSuchElementException> EMPTY = NoSuchElementException.class;
-    private static final Class<IllegalArgumentException> NOT_FIT = IllegalArgumentException.class;
-    private static final Class<IllegalStateException> NO_SECRET = IllegalStateException.class;
-
     private static final int P = 1073735023;
     private static final int N = 1073729077;
     private static final long TWO_TO_32 = 4294967296L;
@@ -54,7 +47,7 @@ public final class KeysTest {
 
     private static void hasNoSecret(String after, EvenCurveKeys keys, int slot, long code) {
         DUE.number("code after " + after, code, () -> keys.code(slot));
-        DUE.refusal("sign after " + after, NO_SECRET, () -> keys.sign(slot, 7));
+        DUE.noSecret("sign after " + after, () -> keys.sign(slot, 7));
     }
 
     private static void newObject() {
@@ -62,7 +55,7 @@ public final class KeysTest {
         for (int slot = 0; slot < 6; slot++) {
             int asked = slot;
             hasNoSecret("nothing", keys, slot, 0);
-            DUE.refusal("linear of an empty slot", EMPTY, () -> keys.linear(asked, 1, 1));
+            DUE.empty("linear of an empty slot", () -> keys.linear(asked, 1, 1));
         }
         DUE.number("mark()", 0, keys::mark);
         DUE.truth("right(1)", true, () -> keys.right(1));
@@ -86,12 +79,12 @@ public final class KeysTest {
         }
         keys.secret(3, 77);
         for (int d : new int[] {0, -1, N, N + 1, Integer.MIN_VALUE, Integer.MAX_VALUE}) {
-            DUE.refusal("secret of " + d, NOT_FIT, () -> keys.secret(3, d));
+            DUE.notFit("secret of " + d, () -> keys.secret(3, d));
         }
         hasSecret("a secret that throws", keys, 3, 77);
         for (int slot : NO_SLOTS) {
-            DUE.refusal("secret into " + slot, NO_SLOT, () -> keys.secret(slot, 1));
-            DUE.refusal("secret 0 into " + slot, NO_SLOT, () -> keys.secret(slot, 0));
+            DUE.noSlot("secret into " + slot, () -> keys.secret(slot, 1));
+            DUE.noSlot("secret 0 into " + slot, () -> keys.secret(slot, 0));
         }
     }
 
@@ -111,8 +104,8 @@ public final class KeysTest {
             DUE.number("linear after open", codeOfG(3L + 2L * d), () -> keys.linear(2, 3, 2));
         }
         for (int slot : NO_SLOTS) {
-            DUE.refusal("open into " + slot, NO_SLOT, () -> opened(keys, slot, codeOfG(1)));
-            DUE.refusal("open of 0 into " + slot, NO_SLOT, () -> opened(keys, slot, 0));
+            DUE.noSlot("open into " + slot, () -> opened(keys, slot, codeOfG(1)));
+            DUE.noSlot("open of 0 into " + slot, () -> opened(keys, slot, 0));
         }
     }
 
@@ -129,8 +122,8 @@ public final class KeysTest {
             (2 + (1L << 16)) * TWO_TO_32 + 1
         };
         for (long code : wrong) {
-            DUE.refusal("open of " + code, NOT_FIT, () -> opened(keys, 2, code));
-            DUE.refusal("open of " + code, NOT_FIT, () -> opened(keys, 3, code));
+            DUE.notFit("open of " + code, () -> opened(keys, 2, code));
+            DUE.notFit("open of " + code, () -> opened(keys, 3, code));
         }
         hasSecret("an open that throws", keys, 2, 9);
         DUE.number("code(3)", 0, () -> keys.code(3));
@@ -142,7 +135,7 @@ public final class KeysTest {
         DUE.number("code of -5 * G", codeOfG(5) + TWO_TO_32, () -> keys.code(1));
         DUE.number("code of an empty slot", 0, () -> keys.code(2));
         for (int slot : NO_SLOTS) {
-            DUE.refusal("code of " + slot, NO_SLOT, () -> keys.code(slot));
+            DUE.noSlot("code of " + slot, () -> keys.code(slot));
         }
     }
 
@@ -160,7 +153,8 @@ public final class KeysTest {
             evenAt(i * 3578931);
         }
         EvenCurveKeys keys = new EvenCurveKeys();
-        for (int x : new int[] {-1, P, P + 1, P + 2, Integer.MIN_VALUE, Integer.MAX_VALUE, -P + 1}) {
+        int[] none = {-1, P, P + 1, P + 2, 1 - P, Integer.MIN_VALUE, Integer.MAX_VALUE};
+        for (int x : none) {
             DUE.number("even(" + x + ")", 0, () -> keys.even(x));
         }
     }
@@ -202,17 +196,17 @@ public final class KeysTest {
 
     private static void tweakRefuses() {
         EvenCurveKeys keys = withSecrets(5, 6);
-        DUE.refusal("tweak to INFINITY", NOT_FIT, () -> keys.tweak(0, N - 5, false));
-        DUE.refusal("tweak by * 0", NOT_FIT, () -> keys.tweak(0, 0, true));
+        DUE.notFit("tweak to INFINITY", () -> keys.tweak(0, N - 5, false));
+        DUE.notFit("tweak by * 0", () -> keys.tweak(0, 0, true));
         for (int t : NO_SCALARS) {
-            DUE.refusal("tweak by + " + t, NOT_FIT, () -> keys.tweak(0, t, false));
-            DUE.refusal("tweak by * " + t, NOT_FIT, () -> keys.tweak(0, t, true));
-            DUE.refusal("tweak of an empty slot", EMPTY, () -> keys.tweak(2, t, true));
+            DUE.notFit("tweak by + " + t, () -> keys.tweak(0, t, false));
+            DUE.notFit("tweak by * " + t, () -> keys.tweak(0, t, true));
+            DUE.empty("tweak of an empty slot", () -> keys.tweak(2, t, true));
         }
         hasSecret("tweaks that throw", keys, 0, 5);
         for (int slot : NO_SLOTS) {
-            DUE.refusal("tweak of " + slot, NO_SLOT, () -> keys.tweak(slot, 1, false));
-            DUE.refusal("tweak of " + slot, NO_SLOT, () -> keys.tweak(slot, -1, true));
+            DUE.noSlot("tweak of " + slot, () -> keys.tweak(slot, 1, false));
+            DUE.noSlot("tweak of " + slot, () -> keys.tweak(slot, -1, true));
         }
     }
 
@@ -229,15 +223,15 @@ public final class KeysTest {
 
     private static void combineRefuses() {
         EvenCurveKeys keys = withSecrets(5, N - 5);
-        DUE.refusal("combine to INFINITY", NOT_FIT, () -> keys.combine(0, 0, 1));
-        DUE.refusal("combine with an empty slot", EMPTY, () -> keys.combine(0, 1, 2));
-        DUE.refusal("combine with an empty slot", EMPTY, () -> keys.combine(0, 2, 1));
-        DUE.refusal("combine of empty slots", EMPTY, () -> keys.combine(0, 3, 3));
+        DUE.notFit("combine to INFINITY", () -> keys.combine(0, 0, 1));
+        DUE.empty("combine with an empty slot", () -> keys.combine(0, 1, 2));
+        DUE.empty("combine with an empty slot", () -> keys.combine(0, 2, 1));
+        DUE.empty("combine of empty slots", () -> keys.combine(0, 3, 3));
         hasSecret("combines that throw", keys, 0, 5);
         for (int slot : NO_SLOTS) {
-            DUE.refusal("combine into " + slot, NO_SLOT, () -> keys.combine(slot, 2, 3));
-            DUE.refusal("combine of " + slot, NO_SLOT, () -> keys.combine(0, slot, 2));
-            DUE.refusal("combine with " + slot, NO_SLOT, () -> keys.combine(0, 2, slot));
+            DUE.noSlot("combine into " + slot, () -> keys.combine(slot, 2, 3));
+            DUE.noSlot("combine of " + slot, () -> keys.combine(0, slot, 2));
+            DUE.noSlot("combine with " + slot, () -> keys.combine(0, 2, slot));
         }
     }
 
@@ -257,12 +251,12 @@ public final class KeysTest {
     private static void linearRefuses() {
         EvenCurveKeys keys = withSecrets(5, 6);
         for (int wrong : NO_SCALARS) {
-            DUE.refusal("linear of a = " + wrong, NOT_FIT, () -> keys.linear(0, wrong, 1));
-            DUE.refusal("linear of b = " + wrong, NOT_FIT, () -> keys.linear(0, 1, wrong));
-            DUE.refusal("linear of an empty slot", EMPTY, () -> keys.linear(2, wrong, 1));
+            DUE.notFit("linear of a = " + wrong, () -> keys.linear(0, wrong, 1));
+            DUE.notFit("linear of b = " + wrong, () -> keys.linear(0, 1, wrong));
+            DUE.empty("linear of an empty slot", () -> keys.linear(2, wrong, 1));
         }
         for (int slot : NO_SLOTS) {
-            DUE.refusal("linear of " + slot, NO_SLOT, () -> keys.linear(slot, 1, -1));
+            DUE.noSlot("linear of " + slot, () -> keys.linear(slot, 1, -1));
         }
     }
 }

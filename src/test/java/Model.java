@@ -127,6 +127,14 @@ final class Model {
         return high.shiftLeft(32).add(low).longValueExact();
     }
 
+    static int high(long pair) {
+        return (int) (pair >>> 32);
+    }
+
+    static int low(long pair) {
+        return (int) pair;
+    }
+
     // Which exception
 
     private static void slots(int... asked) {

@@ -1,14 +1,6 @@
 import java.math.BigInteger;
-import java.util.NoSuchElementException;
-
 /** Promises 13 to 17: proofs, bundles of them, and agreed secrets. */
 public final class ProofsTest {
-    private static final Class<IndexOutOfBoundsException> NO_SLOT = IndexOutOfBoundsException.class;
-    private static final Class<NoSuchElementException> EMPTY = NoSuchElementException.class;
-    private static final Class<IllegalStateException> NO_SECRET = IllegalStateException.class;
-    private static final Class<UnsupportedOperationException> NOT_DONE =
-            UnsupportedOperationException.class;
-
     private static final int P = 1073735023;
     private static final int N = 1073729077;
     private static final int[] NO_SLOTS = {-1, 6, Integer.MIN_VALUE, Integer.MAX_VALUE};
@@ -22,6 +14,7 @@ public final class ProofsTest {
         proveRefuses();
         holds();
         holdsForAnyNonce();
+        holdsAtTheEdges();
         holdsRefuses();
         bundleCounts();
         bundleRefuses();
@@ -32,14 +25,6 @@ public final class ProofsTest {
         agree();
         agreeRefuses();
         DUE.end();
-    }
-
-    private static int high(long pair) {
-        return (int) (pair >>> 32);
-    }
-
-    private static int low(long pair) {
-        return (int) pair;
     }
 
     private static EvenCurveKeys withSecrets(int first, int second) {
@@ -77,7 +62,7 @@ public final class ProofsTest {
                     long due = model.prove(0, message, aux);
                     DUE.number("prove of " + message, due, () -> keys.prove(0, message, aux));
                     DUE.truth("holds of " + message, true,
-                            () -> keys.holds(0, message, high(due), low(due)));
+                            () -> keys.holds(0, message, Model.high(due), Model.low(due)));
                 }
             }
         }
@@ -98,7 +83,7 @@ public final class ProofsTest {
             for (long k : new long[] {0, N, 2L * N}) {
                 long none = messageForK(d, 3, k);
                 long one = messageForK(d, 3, k + 1);
-                DUE.refusal("prove with k = 0", NOT_DONE, () -> keys.prove(0, none, 3));
+                DUE.notDone("prove with k = 0", () -> keys.prove(0, none, 3));
                 DUE.number("prove with k = 1", model.prove(0, one, 3), () -> keys.prove(0, one, 3));
             }
             long last = messageForK(d, 3, N - 1);
@@ -109,10 +94,10 @@ public final class ProofsTest {
     private static void proveRefuses() {
         EvenCurveKeys keys = withSecrets(5, 6);
         keys.open(2, keys.code(0));
-        DUE.refusal("prove without a secret", NO_SECRET, () -> keys.prove(2, 7, 1));
-        DUE.refusal("prove of an empty slot", NO_SECRET, () -> keys.prove(3, 7, 1));
+        DUE.noSecret("prove without a secret", () -> keys.prove(2, 7, 1));
+        DUE.noSecret("prove of an empty slot", () -> keys.prove(3, 7, 1));
         for (int slot : NO_SLOTS) {
-            DUE.refusal("prove of slot " + slot, NO_SLOT, () -> keys.prove(slot, 7, 1));
+            DUE.noSlot("prove of slot " + slot, () -> keys.prove(slot, 7, 1));
         }
     }
 
@@ -153,17 +138,53 @@ public final class ProofsTest {
             int none = proofFor(d, 11, 0, 0);
             DUE.truth("holds of INFINITY", false, () -> keys.holds(0, 11, 0, none));
         }
-        // s in n .. 2147483647 is none even where it would do modulo n.
-        EvenCurveKeys keys = withSecrets(5, 6);
-        DUE.truth("holds of s + n", false, () -> keys.holds(0, 7, 400995050, 801393256 + N));
+    }
+
+    /** A message whose e is this one before it is taken modulo n, for R = G. */
+    private static long messageForE(int d, long e) {
+        long px = Model.multipleOfG(d).x().longValue();
+        return Unmix.second(e << 33, Model.h(4294967296L + px, 29));
+    }
+
+    /** A message for which s proves it with R = G. */
+    private static long messageForS(int d, int s) {
+        BigInteger over = Model.number(evenSecret(d)).modInverse(Model.N);
+        return messageForE(d, scalar(Model.number(s - 1).multiply(over)));
+    }
+
+    private static void holdsAndIsRight(int d, long message, int s, boolean due) {
+        EvenCurveKeys keys = withSecrets(d, 9);
+        DUE.truth("holds of s = " + s, due, () -> keys.holds(0, message, 1, s));
+        put(keys, 1, 3, 4);
+        keys.bundle(0, message, 1, s);
+        DUE.truth("right of s = " + s, due, () -> keys.right(8));
+    }
+
+    private static void holdsAtTheEdges() {
+        for (int d : SECRETS) {
+            for (int s : new int[] {0, 1, 2, 5, 12000, N - 1}) {
+                long message = messageForS(d, s);
+                holdsAndIsRight(d, message, s, true);
+                // Modulo n, or in the bits that a scalar has, these are the same.
+                for (int wrong : new int[] {s + N, s - N, s + (1 << 30), s | 1 << 31}) {
+                    holdsAndIsRight(d, message, wrong, false);
+                }
+            }
+            for (long none : new long[] {0, N, 2L * N}) {
+                long message = messageForE(d, none);
+                holdsAndIsRight(d, message, 1, true);
+                holdsAndIsRight(d, message, 2, false);
+                holdsAndIsRight(d, message, N - 1, false);
+            }
+        }
     }
 
     private static void holdsRefuses() {
         EvenCurveKeys keys = withSecrets(5, 6);
-        DUE.refusal("holds of an empty slot", EMPTY, () -> keys.holds(2, 7, 1, 1) ? 1 : 0);
-        DUE.refusal("holds of an empty slot", EMPTY, () -> keys.holds(2, 7, -1, -1) ? 1 : 0);
+        DUE.empty("holds of an empty slot", () -> keys.holds(2, 7, 1, 1) ? 1 : 0);
+        DUE.empty("holds of an empty slot", () -> keys.holds(2, 7, -1, -1) ? 1 : 0);
         for (int slot : NO_SLOTS) {
-            DUE.refusal("holds of slot " + slot, NO_SLOT, () -> keys.holds(slot, 7, -1, 1) ? 1 : 0);
+            DUE.noSlot("holds of slot " + slot, () -> keys.holds(slot, 7, -1, 1) ? 1 : 0);
         }
     }
 
@@ -174,8 +195,8 @@ public final class ProofsTest {
                 int rx = round == 0 ? Integer.MIN_VALUE : Integer.MAX_VALUE;
                 DUE.number("bundle", count, () -> keys.bundle(0, 7, rx, -rx));
             }
-            DUE.refusal("bundle of a ninth", NOT_DONE, () -> keys.bundle(0, 7, 1, 1));
-            DUE.refusal("bundle of a tenth", NOT_DONE, () -> keys.bundle(0, 7, 1, 1));
+            DUE.notDone("bundle of a ninth", () -> keys.bundle(0, 7, 1, 1));
+            DUE.notDone("bundle of a tenth", () -> keys.bundle(0, 7, 1, 1));
             DUE.truth("right", false, () -> keys.right(1));
         }
         DUE.truth("right after right", true, () -> keys.right(1));
@@ -184,9 +205,9 @@ public final class ProofsTest {
     private static void bundleRefuses() {
         EvenCurveKeys keys = withSecrets(5, 6);
         for (int round = 0; round < 2; round++) {
-            DUE.refusal("bundle of an empty slot", EMPTY, () -> keys.bundle(2, 7, 1, 1));
+            DUE.empty("bundle of an empty slot", () -> keys.bundle(2, 7, 1, 1));
             for (int slot : NO_SLOTS) {
-                DUE.refusal("bundle of slot " + slot, NO_SLOT, () -> keys.bundle(slot, 7, 1, 1));
+                DUE.noSlot("bundle of slot " + slot, () -> keys.bundle(slot, 7, 1, 1));
             }
             // In the second round the bundle is full, which is looked at last.
             for (int i = 0; i < 8 && round == 0; i++) {
@@ -197,7 +218,7 @@ public final class ProofsTest {
 
     private static void put(EvenCurveKeys keys, int slot, long message, long aux) {
         long proof = keys.prove(slot, message, aux);
-        keys.bundle(slot, message, high(proof), low(proof));
+        keys.bundle(slot, message, Model.high(proof), Model.low(proof));
     }
 
     private static void bundleKeepsThePoint() {
@@ -211,7 +232,7 @@ public final class ProofsTest {
         DUE.truth("right after the slots changed", true, () -> keys.right(4));
         long proof = keys.prove(1, 7, 1);
         keys.secret(1, 77);
-        keys.bundle(1, 7, high(proof), low(proof));
+        keys.bundle(1, 7, Model.high(proof), Model.low(proof));
         DUE.truth("right of a changed slot", false, () -> keys.right(4));
     }
 
@@ -222,8 +243,8 @@ public final class ProofsTest {
                 for (int i = 0; i < count; i++) {
                     keys.secret(i % 6, SECRETS[i]);
                     long proof = keys.prove(i % 6, i, 5);
-                    int s = (low(proof) + (i == broken ? 1 : 0)) % N;
-                    keys.bundle(i % 6, i, high(proof), s);
+                    int s = (Model.low(proof) + (i == broken ? 1 : 0)) % N;
+                    keys.bundle(i % 6, i, Model.high(proof), s);
                 }
                 String call = "right of " + count + " with " + broken + " broken";
                 boolean due = broken == -1;
@@ -236,8 +257,8 @@ public final class ProofsTest {
     private static void rightWithWrongItems() {
         EvenCurveKeys keys = withSecrets(5, N - 6);
         long proof = keys.prove(1, 7, 1);
-        int rx = high(proof);
-        int s = low(proof);
+        int rx = Model.high(proof);
+        int s = Model.low(proof);
         // 0 is x of no point. The last four would do modulo p or n: R is G there, with the x 1.
         int[][] wrong = {
             {1, rx, -1}, {1, rx, N}, {1, rx, Integer.MAX_VALUE}, {1, rx, Integer.MIN_VALUE},
@@ -274,10 +295,11 @@ public final class ProofsTest {
                 by = amount.negate().multiply(over).mod(Model.N);
             }
             amount = amount.add(Model.weight(seed, i).multiply(by));
-            int s = scalar(Model.number(low(proof)).add(by));
+            int s = scalar(Model.number(Model.low(proof)).add(by));
+            int rx = Model.high(proof);
             int place = i;
-            DUE.truth("holds alone", false, () -> keys.holds(place % 2, place, high(proof), s));
-            keys.bundle(place % 2, place, high(proof), s);
+            DUE.truth("holds alone", false, () -> keys.holds(place % 2, place, rx, s));
+            keys.bundle(place % 2, place, rx, s);
         }
         DUE.truth("right of a forged bundle of " + places, due, () -> keys.right(tried));
     }
@@ -320,14 +342,14 @@ public final class ProofsTest {
     private static void agreeRefuses() {
         EvenCurveKeys keys = withSecrets(5, 6);
         keys.open(2, keys.code(0));
-        DUE.refusal("agree without a secret", NO_SECRET, () -> keys.agree(2, 0));
-        DUE.refusal("agree of an empty slot", NO_SECRET, () -> keys.agree(3, 0));
-        DUE.refusal("agree of two empty slots", NO_SECRET, () -> keys.agree(3, 4));
-        DUE.refusal("agree with an empty slot", EMPTY, () -> keys.agree(0, 3));
+        DUE.noSecret("agree without a secret", () -> keys.agree(2, 0));
+        DUE.noSecret("agree of an empty slot", () -> keys.agree(3, 0));
+        DUE.noSecret("agree of two empty slots", () -> keys.agree(3, 4));
+        DUE.empty("agree with an empty slot", () -> keys.agree(0, 3));
         for (int slot : NO_SLOTS) {
-            DUE.refusal("agree of slot " + slot, NO_SLOT, () -> keys.agree(slot, 3));
-            DUE.refusal("agree with slot " + slot, NO_SLOT, () -> keys.agree(0, slot));
-            DUE.refusal("agree with slot " + slot, NO_SLOT, () -> keys.agree(3, slot));
+            DUE.noSlot("agree of slot " + slot, () -> keys.agree(slot, 3));
+            DUE.noSlot("agree with slot " + slot, () -> keys.agree(0, slot));
+            DUE.noSlot("agree with slot " + slot, () -> keys.agree(3, slot));
         }
     }
 }

@@ -1,13 +1,6 @@
 import java.math.BigInteger;
-import java.util.NoSuchElementException;
-
 /** Promises 9 to 12: signatures, their marks, and the keys found again from them. */
 public final class SignaturesTest {
-    private static final Class<IndexOutOfBoundsException> NO_SLOT = IndexOutOfBoundsException.class;
-    private static final Class<NoSuchElementException> EMPTY = NoSuchElementException.class;
-    private static final Class<IllegalArgumentException> NOT_FIT = IllegalArgumentException.class;
-    private static final Class<IllegalStateException> NO_SECRET = IllegalStateException.class;
-
     private static final int P = 1073735023;
     private static final int N = 1073729077;
     private static final int HALF = (N - 1) / 2;
@@ -24,12 +17,31 @@ public final class SignaturesTest {
         {9, 1063570365, 955554592}
     };
 
+    /** Secrets and digests at the edges of s: d, digest, and the r and s that are due. */
+    private static final int[][] EDGE_S = {
+        {11, 494171975, 351783387, HALF}, {13, 547701904, 161870788, HALF},
+        {11, 280491369, 170212351, HALF}, {11, 553281882, 962044379, HALF},
+        {11, 695227331, 460742534, 1}, {13, 165212573, 491918622, 1},
+        {11, 785009467, 638747933, 1}, {3, 200830939, 509575221, 1}
+    };
+
+    /** Secrets and digests whose first k is 1 or n - 1, so that R is G or its twin: d, digest. */
+    private static final int[][] EDGE_K = {{4, 432719865}, {5, 6604323}, {5, 481118465}};
+
+    /** Secrets and digests whose first k is 0, n, 2 * n or 2 * n + 1: d, digest. */
+    private static final int[][] NO_K = {
+        {6, 240598954}, {7, 78396696}, {3, 551030640}, {4, 68741853}, {4, 255750452},
+        {5, 812718617}, {3, 1013627566}, {4, 200584276}
+    };
+
     private static final Due DUE = new Due("SignaturesTest");
 
     public static void main(String[] args) {
         sign();
         signWithHighDigest();
         signPassesOverZero();
+        signAtTheEdgesOfS();
+        signAtTheEdgesOfK();
         signRefuses();
         marks();
         markStays();
@@ -41,14 +53,6 @@ public final class SignaturesTest {
         recoverAtItsEdges();
         recoverRefuses();
         DUE.end();
-    }
-
-    private static int high(long pair) {
-        return (int) (pair >>> 32);
-    }
-
-    private static int low(long pair) {
-        return (int) pair;
     }
 
     private static EvenCurveKeys withSecret(int d) {
@@ -66,10 +70,12 @@ public final class SignaturesTest {
         String call = "sign of " + message + " with " + d;
         DUE.number(call, due, () -> keys.sign(0, message));
         DUE.number("mark after " + call, model.mark(), keys::mark);
-        DUE.truth("good after " + call, true, () -> keys.good(0, message, high(due), low(due)));
+        int r = Model.high(due);
+        int s = Model.low(due);
         int mark = model.mark();
+        DUE.truth("good after " + call, true, () -> keys.good(0, message, r, s));
         DUE.number("recover after " + call, model.code(0),
-                () -> keys.recover(1, message, high(due), low(due), mark));
+                () -> keys.recover(1, message, r, s, mark));
         return due;
     }
 
@@ -78,7 +84,7 @@ public final class SignaturesTest {
         DUE.number("sign(0, 7)", 3753173926405257435L, () -> keys.sign(0, 7));
         DUE.number("sign(0, 7) again", 3753173926405257435L, () -> keys.sign(0, 7));
         for (int d : new int[] {1, 2, 5, HALF, HALF + 1, 123456789, N - 1}) {
-            for (long message : new long[] {0, 1, -1, 7, Long.MIN_VALUE, Long.MAX_VALUE, 1L << 40}) {
+            for (long message : new long[] {0, 1, -1, 7, 1L << 40, Long.MIN_VALUE}) {
                 signed(d, message);
             }
         }
@@ -96,17 +102,36 @@ public final class SignaturesTest {
     private static void signPassesOverZero() {
         for (int[] row : ZERO_S) {
             long signature = signed(row[0], Unmix.messageOf(row[1]));
-            DUE.truth("sign with s = 0 first", false, () -> high(signature) == row[2]);
+            DUE.truth("sign with s = 0 first", false, () -> Model.high(signature) == row[2]);
+        }
+    }
+
+    private static void signAtTheEdgesOfS() {
+        for (int[] row : EDGE_S) {
+            long signature = signed(row[0], Unmix.messageOf(row[1]));
+            DUE.number("r at an edge of s", row[2], () -> Model.high(signature));
+            DUE.number("s at its edge", row[3], () -> Model.low(signature));
+        }
+    }
+
+    private static void signAtTheEdgesOfK() {
+        for (int[] row : EDGE_K) {
+            long signature = signed(row[0], Unmix.messageOf(row[1]));
+            DUE.number("r of G", 1, () -> Model.high(signature));
+        }
+        for (int[] row : NO_K) {
+            long signature = signed(row[0], Unmix.messageOf(row[1]));
+            DUE.truth("r of G", false, () -> Model.high(signature) == 1);
         }
     }
 
     private static void signRefuses() {
         EvenCurveKeys keys = withSecret(5);
         keys.open(1, keys.code(0));
-        DUE.refusal("sign without a secret", NO_SECRET, () -> keys.sign(1, 7));
-        DUE.refusal("sign of an empty slot", NO_SECRET, () -> keys.sign(2, 7));
+        DUE.noSecret("sign without a secret", () -> keys.sign(1, 7));
+        DUE.noSecret("sign of an empty slot", () -> keys.sign(2, 7));
         for (int slot : new int[] {-1, 6, Integer.MIN_VALUE, Integer.MAX_VALUE}) {
-            DUE.refusal("sign of slot " + slot, NO_SLOT, () -> keys.sign(slot, 7));
+            DUE.noSlot("sign of slot " + slot, () -> keys.sign(slot, 7));
         }
     }
 
@@ -130,8 +155,8 @@ public final class SignaturesTest {
     private static void markStays() {
         EvenCurveKeys keys = withSecret(HIGH_X[0][0]);
         keys.sign(0, HIGH_X[0][1]);
-        DUE.refusal("sign of an empty slot", NO_SECRET, () -> keys.sign(1, 0));
-        DUE.refusal("sign of no slot", NO_SLOT, () -> keys.sign(6, 0));
+        DUE.noSecret("sign of an empty slot", () -> keys.sign(1, 0));
+        DUE.noSlot("sign of no slot", () -> keys.sign(6, 0));
         DUE.number("mark after throws", 3, keys::mark);
         keys.prove(0, 1, 2);
         keys.good(0, 1, 2, 3);
@@ -195,10 +220,10 @@ public final class SignaturesTest {
 
     private static void goodRefuses() {
         EvenCurveKeys keys = withSecret(5);
-        DUE.refusal("good of an empty slot", EMPTY, () -> keys.good(1, 7, 1, 1) ? 1 : 0);
-        DUE.refusal("good of an empty slot", EMPTY, () -> keys.good(1, 7, 0, 0) ? 1 : 0);
+        DUE.empty("good of an empty slot", () -> keys.good(1, 7, 1, 1) ? 1 : 0);
+        DUE.empty("good of an empty slot", () -> keys.good(1, 7, 0, 0) ? 1 : 0);
         for (int slot : new int[] {-1, 6, Integer.MIN_VALUE, Integer.MAX_VALUE}) {
-            DUE.refusal("good of slot " + slot, NO_SLOT, () -> keys.good(slot, 7, 0, 0) ? 1 : 0);
+            DUE.noSlot("good of slot " + slot, () -> keys.good(slot, 7, 0, 0) ? 1 : 0);
         }
     }
 
@@ -210,7 +235,7 @@ public final class SignaturesTest {
         keys.secret(1, 9);
         DUE.number("recover", code, () -> keys.recover(1, 7, r, s, 0));
         DUE.number("code after recover", code, () -> keys.code(1));
-        DUE.refusal("sign after recover", NO_SECRET, () -> keys.sign(1, 7));
+        DUE.noSecret("sign after recover", () -> keys.sign(1, 7));
         DUE.truth("good after recover", true, () -> keys.good(1, 7, r, s));
         DUE.number("recover of the other s", code, () -> keys.recover(2, 7, r, N - s, 1));
         Model model = new Model();
@@ -230,8 +255,8 @@ public final class SignaturesTest {
         for (int[] row : HIGH_X) {
             EvenCurveKeys keys = withSecret(row[0]);
             long signature = keys.sign(0, row[1]);
-            int r = high(signature);
-            int s = low(signature);
+            int r = Model.high(signature);
+            int s = Model.low(signature);
             int mark = row[2];
             DUE.number("recover of a high x", keys.code(0),
                     () -> keys.recover(1, row[1], r, s, mark));
@@ -262,7 +287,7 @@ public final class SignaturesTest {
             int s = z.multiply(Model.number(k).modInverse(Model.N)).mod(Model.N).intValue();
             int mark = nonce.isOdd() ? 1 : 0;
             int r = nonce.x().intValue();
-            DUE.refusal("recover of INFINITY", NOT_FIT, () -> keys.recover(0, 3, r, s, mark));
+            DUE.notFit("recover of INFINITY", () -> keys.recover(0, 3, r, s, mark));
         }
         DUE.truth("the secret is still there", true, () -> keys.sign(0, 1) != 0);
     }
@@ -270,15 +295,15 @@ public final class SignaturesTest {
     private static void recoverRefuses() {
         EvenCurveKeys keys = withSecret(5);
         for (int wrong : new int[] {0, -1, N, N + 1, P, Integer.MIN_VALUE, Integer.MAX_VALUE}) {
-            DUE.refusal("recover of r = " + wrong, NOT_FIT, () -> keys.recover(0, 7, wrong, 1, 0));
-            DUE.refusal("recover of r = " + wrong, NOT_FIT, () -> keys.recover(0, 7, wrong, 1, 2));
-            DUE.refusal("recover of s = " + wrong, NOT_FIT, () -> keys.recover(0, 7, 1, wrong, 0));
+            DUE.notFit("recover of r = " + wrong, () -> keys.recover(0, 7, wrong, 1, 0));
+            DUE.notFit("recover of r = " + wrong, () -> keys.recover(0, 7, wrong, 1, 2));
+            DUE.notFit("recover of s = " + wrong, () -> keys.recover(0, 7, 1, wrong, 0));
         }
         for (int mark : new int[] {-1, 4, 5, -4, Integer.MIN_VALUE, Integer.MAX_VALUE}) {
-            DUE.refusal("recover of mark " + mark, NOT_FIT, () -> keys.recover(0, 7, 1, 1, mark));
+            DUE.notFit("recover of mark " + mark, () -> keys.recover(0, 7, 1, 1, mark));
         }
         for (int slot : new int[] {-1, 6, Integer.MIN_VALUE, Integer.MAX_VALUE}) {
-            DUE.refusal("recover into " + slot, NO_SLOT, () -> keys.recover(slot, 7, 0, 1, 9));
+            DUE.noSlot("recover into " + slot, () -> keys.recover(slot, 7, 0, 1, 9));
         }
         DUE.number("sign after throws", 3753173926405257435L, () -> keys.sign(0, 7));
     }
