@@ -13,8 +13,11 @@ public final class FormTest {
 
     public static void main(String[] args) {
         written();
+        writtenAtTheEdges();
         writtenRefuses();
         type();
+        typeOfEachByte();
+        typeStaysThroughOtherCalls();
         typeRefuses();
         readOfForms();
         readOfChangedForms();
@@ -22,6 +25,7 @@ public final class FormTest {
         readOfWrongLengths();
         readOfOtherForms();
         readForgets();
+        readSeesNoOldBytes();
         DUE.end();
     }
 
@@ -40,6 +44,33 @@ public final class FormTest {
                         () -> keys.written(r, s, form.size()));
             }
         }
+    }
+
+    /** The shortest form and the longest, byte by byte, and the bytes before and after them. */
+    private static void writtenAtTheEdges() {
+        int[][] pairs = {{0, 0}, {Integer.MAX_VALUE, Integer.MAX_VALUE}, {127, 128}};
+        int[][] forms = {
+            {48, 6, 2, 1, 0, 2, 1, 0},
+            {48, 12, 2, 4, 127, 255, 255, 255, 2, 4, 127, 255, 255, 255},
+            {48, 7, 2, 1, 127, 2, 2, 0, 128}
+        };
+        EvenCurveKeys keys = new EvenCurveKeys();
+        for (int which = 0; which < pairs.length; which++) {
+            int r = pairs[which][0];
+            int s = pairs[which][1];
+            int[] form = forms[which];
+            DUE.notFit("byte -2", () -> keys.written(r, s, -2));
+            DUE.number("byte -1", form.length, () -> keys.written(r, s, -1));
+            for (int i = 0; i < form.length; i++) {
+                int asked = i;
+                DUE.number("byte " + i, form[i], () -> keys.written(r, s, asked));
+            }
+            DUE.notFit("byte after the last", () -> keys.written(r, s, form.length));
+        }
+        DUE.number("r = 0", 8, () -> keys.written(0, 1, -1));
+        DUE.notFit("r = -1", () -> keys.written(-1, 1, -1));
+        DUE.number("s = 0", 8, () -> keys.written(1, 0, -1));
+        DUE.notFit("s = -1", () -> keys.written(1, -1, -1));
     }
 
     private static void writtenRefuses() {
@@ -72,6 +103,37 @@ public final class FormTest {
             DUE.notFit("type(256)", () -> keys.type(256));
             DUE.number("read()", EvenCurveKeys.WRONG, keys::read);
         }
+    }
+
+    private static void typeOfEachByte() {
+        for (int b = -3; b < 259; b++) {
+            int asked = b;
+            EvenCurveKeys keys = new EvenCurveKeys();
+            if (b >= 0 && b <= 255) {
+                DUE.number("type(" + b + ")", 1, () -> keys.type(asked));
+                DUE.number("type(0) then", 2, () -> keys.type(0));
+            } else {
+                DUE.notFit("type(" + b + ")", () -> keys.type(asked));
+                DUE.number("type(0) then", 1, () -> keys.type(0));
+            }
+        }
+    }
+
+    private static void typeStaysThroughOtherCalls() {
+        EvenCurveKeys keys = new EvenCurveKeys();
+        int count = 0;
+        for (int b : Model.form(300, 70000)) {
+            count++;
+            int due = count;
+            DUE.number("type among other calls", due, () -> keys.type(b));
+            DUE.notFit("type(256)", () -> keys.type(256));
+            keys.secret(count % 6, count);
+            keys.sign(count % 6, count);
+            keys.bundle(count % 6, 7, 1, 1);
+            keys.right(1);
+            keys.written(5, 7, 1);
+        }
+        DUE.number("read among other calls", 300 * 4294967296L + 70000, keys::read);
     }
 
     private static void typeRefuses() {
@@ -193,6 +255,30 @@ public final class FormTest {
             DUE.number("read again", EvenCurveKeys.WRONG, keys::read);
             DUE.number("type after read", 1, () -> keys.type(48));
             DUE.number("read of one", EvenCurveKeys.WRONG, keys::read);
+        }
+    }
+
+    private static void readAfter(List<Integer> old, List<Integer> bytes, long due) {
+        EvenCurveKeys keys = new EvenCurveKeys();
+        old.forEach(keys::type);
+        keys.read();
+        bytes.forEach(keys::type);
+        DUE.number("read of " + bytes + " after " + old, due, keys::read);
+    }
+
+    /** Bytes of an earlier read do not make up for those that lack, nor lengthen those typed. */
+    private static void readSeesNoOldBytes() {
+        List<Integer> twenty = new ArrayList<>(Model.form(5, 7));
+        while (twenty.size() < 20) {
+            twenty.add(2);
+        }
+        for (int number : NUMBERS) {
+            List<Integer> form = Model.form(number, number);
+            readAfter(twenty, form, number * 4294967296L + number);
+            readAfter(form, form, number * 4294967296L + number);
+            for (int length = 0; length < form.size(); length++) {
+                readAfter(form, form.subList(0, length), EvenCurveKeys.WRONG);
+            }
         }
     }
 }

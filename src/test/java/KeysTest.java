@@ -7,21 +7,36 @@ public final class KeysTest {
     private static final int[] NO_SCALARS = {-1, N, N + 1, Integer.MIN_VALUE, Integer.MAX_VALUE};
     private static final int[] SECRETS = {1, 2, 3, 5, N / 2, N / 2 + 1, 123456789, N - 2, N - 1};
 
+    /** The lowest x of a point and the highest, and those around n: x, and k of the even point. */
+    private static final int[][] EDGE_X = {
+        {1, 1}, {N - 1, 1073504826}, {N + 1, 460199590}, {P - 3, 870684867}
+    };
+
+    /** Beside those: -1 and p are no field numbers, the others no x of a point. */
+    private static final int[] NO_X = {-1, 0, N, P - 2, P - 1, P};
+
     private static final Due DUE = new Due("KeysTest");
 
     public static void main(String[] args) {
         newObject();
         secret();
+        secretAtItsEdges();
         open();
+        openAtTheEdges();
         openOfNoCode();
         code();
+        codeFollowsTheSlot();
         even();
+        evenAtTheEdges();
         tweak();
         tweakTakesTheSecretAlong();
+        tweakBesideInfinity();
         tweakRefuses();
         combine();
+        combineBesideInfinity();
         combineRefuses();
         linear();
+        linearBesideInfinity();
         linearRefuses();
         DUE.end();
     }
@@ -88,6 +103,21 @@ public final class KeysTest {
         }
     }
 
+    /** The last that are refused and the first that are taken, below and above. */
+    private static void secretAtItsEdges() {
+        EvenCurveKeys keys = new EvenCurveKeys();
+        DUE.notFit("secret(0, 0)", () -> keys.secret(0, 0));
+        DUE.number("code after it", 0, () -> keys.code(0));
+        DUE.number("secret(0, 1)", codeOfG(1), () -> keys.secret(0, 1));
+        hasSecret("secret(0, 1)", keys, 0, 1);
+        DUE.notFit("secret(0, n)", () -> keys.secret(0, N));
+        hasSecret("secret(0, n)", keys, 0, 1);
+        DUE.number("secret(0, n - 1)", codeOfG(-1), () -> keys.secret(0, N - 1));
+        hasSecret("secret(0, n - 1)", keys, 0, N - 1);
+        DUE.notFit("secret(0, -1)", () -> keys.secret(0, -1));
+        hasSecret("secret(0, -1)", keys, 0, N - 1);
+    }
+
     private static long opened(EvenCurveKeys keys, int slot, long code) {
         keys.open(slot, code);
         return 0;
@@ -106,6 +136,31 @@ public final class KeysTest {
         for (int slot : NO_SLOTS) {
             DUE.noSlot("open into " + slot, () -> opened(keys, slot, codeOfG(1)));
             DUE.noSlot("open of 0 into " + slot, () -> opened(keys, slot, 0));
+        }
+    }
+
+    /** A code of a point is taken, and those beside it that are none are not. */
+    private static void openAtTheEdges() {
+        EvenCurveKeys keys = new EvenCurveKeys();
+        for (int[] edge : EDGE_X) {
+            for (int kind = 0; kind < 6; kind++) {
+                long code = kind * TWO_TO_32 + edge[0];
+                if (kind == 2 || kind == 3) {
+                    int k = kind == 2 ? edge[1] : N - edge[1];
+                    DUE.number("open of " + code, 0, () -> opened(keys, 0, code));
+                    DUE.number("code after open", code, () -> keys.code(0));
+                    DUE.number("linear after open", codeOfG(3 + 2L * k),
+                            () -> keys.linear(0, 3, 2));
+                } else {
+                    DUE.notFit("open of " + code, () -> opened(keys, 0, code));
+                }
+            }
+        }
+        for (int x : NO_X) {
+            for (long kind = 0; kind < 5; kind++) {
+                long code = kind * TWO_TO_32 + x;
+                DUE.notFit("open of " + code, () -> opened(keys, 0, code));
+            }
         }
     }
 
@@ -139,6 +194,20 @@ public final class KeysTest {
         }
     }
 
+    private static void codeFollowsTheSlot() {
+        EvenCurveKeys keys = new EvenCurveKeys();
+        for (int slot = 0; slot < 6; slot += 5) {
+            int asked = slot;
+            DUE.number("code before", 0, () -> keys.code(asked));
+            keys.secret(slot, 5);
+            DUE.number("code of a secret", codeOfG(5), () -> keys.code(asked));
+            keys.open(slot, codeOfG(-7));
+            DUE.number("code of an open key", codeOfG(-7), () -> keys.code(asked));
+        }
+        DUE.noSlot("code(-1)", () -> keys.code(-1));
+        DUE.noSlot("code(6)", () -> keys.code(6));
+    }
+
     private static void evenAt(int x) {
         EvenCurveKeys keys = new EvenCurveKeys();
         long due = Model.codeOf(Model.at(Model.number(x), false));
@@ -159,8 +228,22 @@ public final class KeysTest {
         }
     }
 
+    private static void evenAtTheEdges() {
+        EvenCurveKeys keys = new EvenCurveKeys();
+        for (int[] edge : EDGE_X) {
+            DUE.number("even(" + edge[0] + ")", codeOfG(edge[1]), () -> keys.even(edge[0]));
+        }
+        for (int x : NO_X) {
+            DUE.number("even(" + x + ")", 0, () -> keys.even(x));
+        }
+        // These are 1 modulo p, and 1 in the bits that a field number has.
+        for (int x : new int[] {P + 1, 1 - P, 1 | 1 << 30, 1 | 1 << 31}) {
+            DUE.number("even(" + x + ")", 0, () -> keys.even(x));
+        }
+    }
+
     private static void tweak() {
-        int[] ts = {1, 2, 9, N / 2, N - 2};
+        int[] ts = {1, 2, 9, N / 2, N - 2, N - 1};
         for (int d : new int[] {5, 123456789, N - 3}) {
             for (int t : ts) {
                 EvenCurveKeys keys = withSecrets(d, d);
@@ -194,6 +277,33 @@ public final class KeysTest {
         hasSecret("a tweak by nothing", keys, 1, 21);
     }
 
+    /** P + t * G for the t that makes it INFINITY and those beside it, with and without secret. */
+    private static void tweakBesideInfinity() {
+        for (int d : new int[] {2, 5, 123456789, N - 2}) {
+            for (int slot = 0; slot < 2; slot++) {
+                for (int by = -1; by <= 1; by++) {
+                    EvenCurveKeys keys = new EvenCurveKeys();
+                    keys.secret(0, d);
+                    keys.open(1, codeOfG(d));
+                    int asked = slot;
+                    int t = N - d + by;
+                    String call = "tweak of " + d + " by " + t;
+                    long due = codeOfG(by == 0 ? d : by);
+                    if (by == 0) {
+                        DUE.notFit(call, () -> keys.tweak(asked, t, false));
+                    } else {
+                        DUE.number(call, due, () -> keys.tweak(asked, t, false));
+                    }
+                    if (slot == 0) {
+                        hasSecret(call, keys, 0, by == 0 ? d : Math.floorMod(by, N));
+                    } else {
+                        hasNoSecret(call, keys, 1, due);
+                    }
+                }
+            }
+        }
+    }
+
     private static void tweakRefuses() {
         EvenCurveKeys keys = withSecrets(5, 6);
         DUE.notFit("tweak to INFINITY", () -> keys.tweak(0, N - 5, false));
@@ -221,6 +331,25 @@ public final class KeysTest {
         hasSecret("combine elsewhere", keys, 1, N - 7);
     }
 
+    /** (x, y) and (x, -y) make INFINITY; the points beside the one, and the same twice, do not. */
+    private static void combineBesideInfinity() {
+        for (int d : new int[] {3, 5, 123456789, N / 2, N - 3}) {
+            for (int by = -1; by <= 1; by++) {
+                EvenCurveKeys keys = withSecrets(d, N - d + by);
+                String call = "combine of " + d + " and " + (N - d + by);
+                if (by == 0) {
+                    DUE.notFit(call, () -> keys.combine(2, 0, 1));
+                    DUE.notFit(call, () -> keys.combine(2, 1, 0));
+                    hasNoSecret(call, keys, 2, 0);
+                } else {
+                    DUE.number(call, codeOfG(by), () -> keys.combine(2, 0, 1));
+                    DUE.number(call, codeOfG(by), () -> keys.combine(2, 1, 0));
+                }
+                DUE.number("combine of the same", codeOfG(2L * d), () -> keys.combine(3, 0, 0));
+            }
+        }
+    }
+
     private static void combineRefuses() {
         EvenCurveKeys keys = withSecrets(5, N - 5);
         DUE.notFit("combine to INFINITY", () -> keys.combine(0, 0, 1));
@@ -246,6 +375,22 @@ public final class KeysTest {
             }
         }
         hasSecret("linear", keys, 0, 5);
+    }
+
+    /** a * G + b * P is INFINITY for one a to each b, b = 0 too, and for those beside it not. */
+    private static void linearBesideInfinity() {
+        for (int d : new int[] {1, 5, N - 1}) {
+            EvenCurveKeys keys = withSecrets(d, 6);
+            for (int b : new int[] {0, 1, 2, N / 2, N - 1}) {
+                int none = (int) Math.floorMod(-(long) d * b, (long) N);
+                String call = "linear of " + none + " and " + b + " with " + d;
+                DUE.number(call, 0, () -> keys.linear(0, none, b));
+                int above = (none + 1) % N;
+                int below = (none + N - 1) % N;
+                DUE.number("beside " + call, codeOfG(1), () -> keys.linear(0, above, b));
+                DUE.number("beside " + call, codeOfG(-1), () -> keys.linear(0, below, b));
+            }
+        }
     }
 
     private static void linearRefuses() {

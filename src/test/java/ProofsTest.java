@@ -1,4 +1,5 @@
 import java.math.BigInteger;
+
 /** Promises 13 to 17: proofs, bundles of them, and agreed secrets. */
 public final class ProofsTest {
     private static final int P = 1073735023;
@@ -6,23 +7,37 @@ public final class ProofsTest {
     private static final int[] NO_SLOTS = {-1, 6, Integer.MIN_VALUE, Integer.MAX_VALUE};
     private static final int[] SECRETS = {1, 2, 3, 5, 6, N / 2, 123456789, N - 2, N - 1};
 
+    /** The lowest x of a point and the highest, and those around n: x, and k of the even point. */
+    private static final int[][] EDGE_X = {
+        {1, 1}, {N - 1, 1073504826}, {N + 1, 460199590}, {P - 3, 870684867}
+    };
+
     private static final Due DUE = new Due("ProofsTest");
 
     public static void main(String[] args) {
         prove();
         proveWithoutK();
+        proveWithOddPoints();
+        proveAtTheEdgesOfAux();
+        proveAtTheEdgesOfX();
         proveRefuses();
         holds();
         holdsForAnyNonce();
         holdsAtTheEdges();
+        holdsAtTheEdgesOfRx();
         holdsRefuses();
         bundleCounts();
+        bundleOfNineKeepsEight();
+        bundleTakesAnyNumbers();
         bundleRefuses();
         bundleKeepsThePoint();
+        rightWithoutItems();
         right();
         rightWithWrongItems();
+        rightOfInfinity();
         rightWeighsItsItems();
         agree();
+        agreeWithOddPoints();
         agreeRefuses();
         DUE.end();
     }
@@ -88,6 +103,56 @@ public final class ProofsTest {
             }
             long last = messageForK(d, 3, N - 1);
             DUE.number("prove with k = -1", model.prove(0, last, 3), () -> keys.prove(0, last, 3));
+        }
+    }
+
+    /** Holds a proof against the model's, and that it holds, alone and in a bundle. */
+    private static long proved(int d, long message, long aux) {
+        EvenCurveKeys keys = withSecrets(d, 1);
+        Model model = new Model();
+        model.secret(0, d);
+        long due = model.prove(0, message, aux);
+        String call = "prove of " + message + " with " + d;
+        DUE.number(call, due, () -> keys.prove(0, message, aux));
+        DUE.truth("holds after " + call, true,
+                () -> keys.holds(0, message, Model.high(due), Model.low(due)));
+        keys.bundle(0, message, Model.high(due), Model.low(due));
+        DUE.truth("right after " + call, true, () -> keys.right(3));
+        return due;
+    }
+
+    /** P even and odd, R even and odd, each with each. */
+    private static void proveWithOddPoints() {
+        DUE.truth("G is even", false, Model.G::isOdd);
+        for (int d : new int[] {1, N - 1, 5, N - 5}) {
+            for (int k : new int[] {1, N - 1, 2, N - 2}) {
+                long proof = proved(d, messageForK(d, 3, k), 3);
+                DUE.number("rx of " + k, Model.multipleOfG(k).x().longValue(),
+                        () -> Model.high(proof));
+            }
+        }
+    }
+
+    /** The number that d is mixed with has 30 bits: the lowest and the highest, and d itself. */
+    private static void proveAtTheEdgesOfAux() {
+        for (int d : new int[] {1, 5, N - 5, N - 1}) {
+            for (long mask : new long[] {0, 1, evenSecret(d), N - 1, N, (1 << 30) - 1}) {
+                long aux = Unmix.first(mask << 34, 23);
+                DUE.number("mask", mask, () -> Model.h(aux, 23) >>> 34);
+                proved(d, 7, aux);
+            }
+        }
+    }
+
+    /** rx is x of R as it is, not modulo n. */
+    private static void proveAtTheEdgesOfX() {
+        for (int[] edge : EDGE_X) {
+            for (int k : new int[] {edge[1], N - edge[1]}) {
+                for (int d : new int[] {5, N - 5}) {
+                    long proof = proved(d, messageForK(d, 3, k), 3);
+                    DUE.number("rx", edge[0], () -> Model.high(proof));
+                }
+            }
         }
     }
 
@@ -179,6 +244,28 @@ public final class ProofsTest {
         }
     }
 
+    /** The x of R, and numbers that are the same modulo p or n, or x of no point. */
+    private static void holdsAtTheEdgesOfRx() {
+        for (int d : new int[] {5, N - 5}) {
+            for (int[] edge : EDGE_X) {
+                int rx = edge[0];
+                int s = proofFor(d, 7, rx, edge[1]);
+                EvenCurveKeys keys = withSecrets(d, 6);
+                DUE.truth("holds of rx = " + rx, true, () -> keys.holds(0, 7, rx, s));
+                keys.bundle(0, 7, rx, s);
+                DUE.truth("right of rx = " + rx, true, () -> keys.right(1));
+                // With e made for the wrong rx, too, only its range tells that it is wrong.
+                for (int wrong : new int[] {rx + P, rx - P, rx + N, rx - N, rx - 1, rx + 1}) {
+                    int fitting = proofFor(d, 7, wrong, edge[1]);
+                    DUE.truth("holds of rx = " + wrong, false,
+                            () -> keys.holds(0, 7, wrong, fitting));
+                    keys.bundle(0, 7, wrong, fitting);
+                    DUE.truth("right of rx = " + wrong, false, () -> keys.right(1));
+                }
+            }
+        }
+    }
+
     private static void holdsRefuses() {
         EvenCurveKeys keys = withSecrets(5, 6);
         DUE.empty("holds of an empty slot", () -> keys.holds(2, 7, 1, 1) ? 1 : 0);
@@ -200,6 +287,41 @@ public final class ProofsTest {
             DUE.truth("right", false, () -> keys.right(1));
         }
         DUE.truth("right after right", true, () -> keys.right(1));
+    }
+
+    /** The ninth, right or wrong, is not there: the eight are as right as they were. */
+    private static void bundleOfNineKeepsEight() {
+        for (int broken = -1; broken < 8; broken++) {
+            EvenCurveKeys keys = withSecrets(5, 6);
+            long ninth = keys.prove(1, 9, 1);
+            for (int i = 0; i < 8; i++) {
+                long proof = keys.prove(0, i, 1);
+                int s = Model.low(proof);
+                keys.bundle(0, i, Model.high(proof), i == broken ? N - 1 - s : s);
+            }
+            DUE.notDone("bundle of a ninth", () -> keys.bundle(0, 9, 1, -1));
+            DUE.notDone("bundle of a ninth",
+                    () -> keys.bundle(1, 9, Model.high(ninth), Model.low(ninth)));
+            boolean due = broken == -1;
+            DUE.truth("right of eight", due, () -> keys.right(6));
+            DUE.number("bundle after right", 1,
+                    () -> keys.bundle(1, 9, Model.high(ninth), Model.low(ninth)));
+            DUE.truth("right of the ninth", true, () -> keys.right(6));
+        }
+    }
+
+    private static void bundleTakesAnyNumbers() {
+        int[] any = {
+            Integer.MIN_VALUE, -1, 0, 1, N - 1, N, P - 1, P, Integer.MAX_VALUE
+        };
+        for (int rx : any) {
+            for (int s : any) {
+                EvenCurveKeys keys = withSecrets(5, 6);
+                DUE.number("bundle of " + rx + " and " + s, 1, () -> keys.bundle(0, 7, rx, s));
+                DUE.truth("right of " + rx + " and " + s, false, () -> keys.right(1));
+                DUE.number("bundle after it", 1, () -> keys.bundle(0, 7, rx, s));
+            }
+        }
     }
 
     private static void bundleRefuses() {
@@ -234,6 +356,19 @@ public final class ProofsTest {
         keys.secret(1, 77);
         keys.bundle(1, 7, Model.high(proof), Model.low(proof));
         DUE.truth("right of a changed slot", false, () -> keys.right(4));
+    }
+
+    private static void rightWithoutItems() {
+        EvenCurveKeys keys = new EvenCurveKeys();
+        for (long seed : new long[] {0, 1, -1, Long.MIN_VALUE, Long.MAX_VALUE}) {
+            DUE.truth("right of nothing", true, () -> keys.right(seed));
+        }
+        keys.secret(0, 5);
+        for (long seed : new long[] {0, -1}) {
+            keys.bundle(0, 7, 1, 1);
+            DUE.truth("right of a wrong item", false, () -> keys.right(seed));
+            DUE.truth("right of nothing then", true, () -> keys.right(seed));
+        }
     }
 
     private static void right() {
@@ -281,6 +416,23 @@ public final class ProofsTest {
         }
         keys.bundle(0, 7, 1, proofFor(5, 7, 1, 1));
         DUE.truth("right of R = G", true, () -> keys.right(5));
+    }
+
+    /** Both sums are INFINITY, or one of them alone. */
+    private static void rightOfInfinity() {
+        for (int d : SECRETS) {
+            EvenCurveKeys keys = withSecrets(d, 6);
+            // e * d = -1 for this one, so that G + e * Q is INFINITY, as is 0 * G.
+            long message = messageForS(d, 0);
+            keys.bundle(0, message, 1, 0);
+            DUE.truth("right of INFINITY", true, () -> keys.right(1));
+            for (int s : new int[] {1, N - 1}) {
+                keys.bundle(0, message, 1, s);
+                DUE.truth("right of INFINITY on one side", false, () -> keys.right(1));
+            }
+            keys.bundle(0, messageForS(d, 5), 1, 0);
+            DUE.truth("right of INFINITY on the other side", false, () -> keys.right(1));
+        }
     }
 
     /** Items that are all wrong, but by just so much that with one seed they make up for it. */
@@ -337,6 +489,22 @@ public final class ProofsTest {
         Model.Point own = Model.multipleOfG(25);
         long due = Model.h(own.x().longValue(), own.y().longValue());
         DUE.number("agree with itself", due, () -> keys.agree(0, 0));
+    }
+
+    /** y goes into H as it is: points of the same x agree on another secret. */
+    private static void agreeWithOddPoints() {
+        for (int[] edge : EDGE_X) {
+            for (int e : new int[] {edge[1], N - edge[1]}) {
+                EvenCurveKeys keys = withSecrets(1, N - 1);
+                keys.secret(2, e);
+                long y = Model.multipleOfG(e).y().longValue();
+                long due = Model.h(edge[0], y);
+                long twin = Model.h(edge[0], P - y);
+                DUE.number("agree with x = " + edge[0], due, () -> keys.agree(0, 2));
+                DUE.number("agree of its twin", twin, () -> keys.agree(1, 2));
+                DUE.number("agree back", twin, () -> keys.agree(2, 1));
+            }
+        }
     }
 
     private static void agreeRefuses() {

@@ -254,7 +254,9 @@ public final class RefusalsTest {
 
     private static void openRefuses(Stage stage) {
         long p = P;
-        long[] wrong = {0, 1, CODE - 1, CODE - 4294967296L, CODE + 2 * 4294967296L, CODE + p, -CODE};
+        long[] wrong = {
+            0, 1, CODE - 1, CODE - 4294967296L, CODE + 2 * 4294967296L, CODE + p, -CODE
+        };
         for (int slot : new int[] {MINE, OPEN, EMPTY}) {
             for (long code : wrong) {
                 stage.notFit("open of " + code, keys -> opened(keys, slot, code));

@@ -14,8 +14,8 @@ public final class RunsTest {
     private static final int N = 1073729077;
     private static final int P = 1073735023;
     private static final int[] EDGES = {
-        0, 1, 2, -1, N - 1, N, N / 2, N / 2 + 1, P - 1, P, P - N, Integer.MAX_VALUE,
-        Integer.MIN_VALUE
+        0, 1, 2, -1, N - 1, N, N + 1, N / 2, N / 2 + 1, P - 3, P - 1, P, P - 3 - N, P - N,
+        Integer.MAX_VALUE, Integer.MIN_VALUE
     };
     private static final int[] BYTES = {48, 2, 0, 1, 127, 128, 255, 256, -1};
     private static final long[] MESSAGES = {

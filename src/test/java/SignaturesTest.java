@@ -1,4 +1,5 @@
 import java.math.BigInteger;
+
 /** Promises 9 to 12: signatures, their marks, and the keys found again from them. */
 public final class SignaturesTest {
     private static final int P = 1073735023;
@@ -34,6 +35,26 @@ public final class SignaturesTest {
         {5, 812718617}, {3, 1013627566}, {4, 200584276}
     };
 
+    /**
+     * Secrets and digests whose R has the x n - 1, n + 1 (n is x of none) or p - 3, the highest:
+     * d, digest, and the r, s and mark that are due. R is even in the first two of each four, and s
+     * was above (n - 1) / 2 in every second.
+     */
+    private static final int[][] EDGE_X = {
+        {19, 56399070, N - 1, 319646392, 0}, {27, 103637734, N - 1, 47043232, 1},
+        {25, 654354303, N - 1, 232463628, 1}, {5, 451248900, N - 1, 494356451, 0},
+        {34, 183164679, 1, 79679334, 2}, {54, 349132338, 1, 26102759, 3},
+        {5, 200983714, 1, 185489959, 3}, {27, 70279851, 1, 461017460, 2},
+        {34, 78121649, P - 3 - N, 17050981, 2}, {25, 18467770, P - 3 - N, 378298391, 3},
+        {19, 28881276, P - 3 - N, 172816565, 3}, {39, 109606798, P - 3 - N, 187877883, 2}
+    };
+
+    /** Secrets and digests for which only the 11th k is 1 .. n - 1: no more are passed over. */
+    private static final int[][] LATE_K = {{9, 17698}, {7, 37304}, {8, 42775}, {6, 52715}};
+
+    /** The k of the even points with the x 1, n - 1, n + 1 and p - 3. */
+    private static final int[] EDGE_X_K = {1, 1073504826, 460199590, 870684867};
+
     private static final Due DUE = new Due("SignaturesTest");
 
     public static void main(String[] args) {
@@ -42,15 +63,23 @@ public final class SignaturesTest {
         signPassesOverZero();
         signAtTheEdgesOfS();
         signAtTheEdgesOfK();
+        signAtTheLastTry();
+        signAtTheEdgesOfX();
         signRefuses();
         marks();
+        markWithoutSignature();
         markStays();
         good();
-        goodAtItsEdges();
+        goodAtTheEdgesOfS();
+        goodAtTheEdgesOfR();
+        goodOfInfinity();
         goodRefuses();
         recover();
         recoverOfHighX();
-        recoverAtItsEdges();
+        recoverWithEachMark();
+        recoverAtTheEdgesOfR();
+        recoverAtTheEdgesOfS();
+        recoverBesideInfinity();
         recoverRefuses();
         DUE.end();
     }
@@ -125,6 +154,36 @@ public final class SignaturesTest {
         }
     }
 
+    /** How many k are looked at until one is 1 .. n - 1. */
+    private static int tries(int d, long z) {
+        for (int i = 1; i <= 64; i++) {
+            long k = Model.h(Model.h(d, z), i) >>> 33;
+            if (k >= 1 && k < N) {
+                return i;
+            }
+        }
+        return 65;
+    }
+
+    private static void signAtTheLastTry() {
+        for (int[] row : LATE_K) {
+            DUE.number("tries", 11, () -> tries(row[0], row[1]));
+            signed(row[0], Unmix.messageOf(row[1]));
+        }
+    }
+
+    private static void signAtTheEdgesOfX() {
+        for (int[] row : EDGE_X) {
+            long message = Unmix.messageOf(row[1]);
+            long signature = signed(row[0], message);
+            DUE.number("r at an edge of x", row[2], () -> Model.high(signature));
+            DUE.number("s at an edge of x", row[3], () -> Model.low(signature));
+            EvenCurveKeys keys = withSecret(row[0]);
+            keys.sign(0, message);
+            DUE.number("mark at an edge of x", row[4], keys::mark);
+        }
+    }
+
     private static void signRefuses() {
         EvenCurveKeys keys = withSecret(5);
         keys.open(1, keys.code(0));
@@ -150,6 +209,19 @@ public final class SignaturesTest {
             DUE.number("sign with a high x", signature, () -> other.sign(0, row[1]));
             DUE.number("mark of a high x", row[2], other::mark);
         }
+    }
+
+    private static void markWithoutSignature() {
+        EvenCurveKeys keys = new EvenCurveKeys();
+        DUE.number("mark of a new object", 0, keys::mark);
+        DUE.noSecret("sign of an empty slot", () -> keys.sign(0, 1));
+        DUE.noSlot("sign of no slot", () -> keys.sign(-1, 1));
+        keys.secret(0, HIGH_X[0][0]);
+        keys.prove(0, HIGH_X[0][1], 1);
+        DUE.number("mark before a signature", 0, keys::mark);
+        keys.sign(0, HIGH_X[0][1]);
+        DUE.number("mark of a signature", 3, keys::mark);
+        DUE.number("mark asked twice", 3, keys::mark);
     }
 
     private static void markStays() {
@@ -199,15 +271,39 @@ public final class SignaturesTest {
         return product.subtract(z).multiply(r.modInverse(Model.N)).mod(Model.N).intValue();
     }
 
-    private static void goodAtItsEdges() {
+    private static int rOf(int k) {
+        return Model.multipleOfG(k).x().mod(Model.N).intValue();
+    }
+
+    private static void goodAtTheEdgesOfS() {
         for (int s : new int[] {1, 2, HALF - 1, HALF, HALF + 1, HALF + 2, N - 1}) {
             for (int k : new int[] {1, 2, 77}) {
-                int r = Model.multipleOfG(k).x().mod(Model.N).intValue();
                 EvenCurveKeys keys = withSecret(secretFor(9, k, s));
-                DUE.truth("good of s = " + s, s <= HALF, () -> keys.good(0, 9, r, s));
+                DUE.truth("good of s = " + s, s <= HALF, () -> keys.good(0, 9, rOf(k), s));
+                // Modulo n it is the same, but it is not 1 .. (n - 1) / 2.
+                DUE.truth("good of s + n", false, () -> keys.good(0, 9, rOf(k), s + N));
+                DUE.truth("good of s - n", false, () -> keys.good(0, 9, rOf(k), s - N));
             }
         }
-        // With z + r * d = 0 the sum of u * G and v * P is INFINITY, whatever s is.
+    }
+
+    /** r is x of R modulo n, and both 1 and n + 1 are x of points: r = 1 is good with either. */
+    private static void goodAtTheEdgesOfR() {
+        for (int even : EDGE_X_K) {
+            for (int k : new int[] {even, N - even}) {
+                int x = Model.multipleOfG(k).x().intValue();
+                int r = rOf(k);
+                EvenCurveKeys keys = withSecret(secretFor(9, k, 5));
+                DUE.truth("good of x = " + x, true, () -> keys.good(0, 9, r, 5));
+                for (int wrong : new int[] {r - 1, r + 1, r + N, r - N}) {
+                    DUE.truth("good of r = " + wrong, false, () -> keys.good(0, 9, wrong, 5));
+                }
+            }
+        }
+    }
+
+    /** With z + r * d = 0 the sum of u * G and v * P is INFINITY, whatever s is. */
+    private static void goodOfInfinity() {
         for (int d : new int[] {1, 5, N - 1}) {
             EvenCurveKeys keys = withSecret(d);
             BigInteger over = Model.number(d).modInverse(Model.N);
@@ -266,30 +362,81 @@ public final class SignaturesTest {
         }
     }
 
-    private static void recoverAtItsEdges() {
-        Model model = new Model();
+    /** Holds one recover against the model's, and that a slot stays as it was if it throws. */
+    private static void recovered(int slot, long message, int r, int s, int mark) {
         EvenCurveKeys keys = withSecret(9);
-        // Around p - n: the highest r whose r + n is a field number, and the first that is none.
-        for (int r = 1; r < 40; r++) {
-            for (int asked : new int[] {r, P - N - 20 + r, N - r}) {
+        Model model = new Model();
+        model.secret(0, 9);
+        String call = "recover of r = " + r + ", s = " + s + ", mark " + mark;
+        String due = Due.outcome(() -> model.recover(slot, message, r, s, mark));
+        DUE.same(call, Due.outcome(() -> keys.recover(slot, message, r, s, mark)), due);
+        DUE.number("code after " + call, model.code(slot), () -> keys.code(slot));
+        DUE.same("sign after " + call, Due.outcome(() -> keys.sign(slot, 7)),
+                Due.outcome(() -> model.sign(slot, 7)));
+    }
+
+    /** With r = 1, R is one of four points: those with the x 1 and those with the x n + 1. */
+    private static void recoverWithEachMark() {
+        EvenCurveKeys keys = new EvenCurveKeys();
+        BigInteger z = Model.number(Model.digest(7));
+        int high = EDGE_X_K[2];
+        int[] ks = {1, N - 1, high, N - high};
+        for (int mark = 0; mark < 4; mark++) {
+            int asked = mark;
+            // For r = 1 the secret is s * k - z.
+            BigInteger d = Model.number(5).multiply(Model.number(ks[mark])).subtract(z);
+            long due = Model.codeOf(Model.multipleOfG(d.mod(Model.N).longValue()));
+            DUE.number("recover of mark " + mark, due, () -> keys.recover(0, 7, 1, 5, asked));
+        }
+        DUE.notFit("recover of mark -1", () -> keys.recover(1, 7, 1, 5, -1));
+        DUE.notFit("recover of mark 4", () -> keys.recover(1, 7, 1, 5, 4));
+        DUE.number("code after throws", 0, () -> keys.code(1));
+    }
+
+    /** Around 1, n and p - n: the highest r whose r + n is x of a point, and the first without. */
+    private static void recoverAtTheEdgesOfR() {
+        for (int i = -20; i <= 20; i++) {
+            for (int r : new int[] {i, P - N + i, N + i}) {
                 for (int mark = 0; mark <= 3; mark++) {
-                    int given = mark;
-                    String due = Due.outcome(() -> model.recover(1, 3, asked, 5, given));
-                    String got = Due.outcome(() -> keys.recover(1, 3, asked, 5, given));
-                    DUE.same("recover of r = " + asked + ", mark " + mark, got, due);
+                    recovered(Math.floorMod(i, 2), 3, r, 5, mark);
                 }
             }
         }
-        // With s * k = z the point is INFINITY.
-        for (int k : new int[] {1, 2, 5}) {
+        // These r have the R of the mark 2 or 0 modulo p or n, but none in their range.
+        EvenCurveKeys keys = withSecret(9);
+        DUE.notFit("recover of n + 1", () -> keys.recover(0, 3, N + 1, 5, 0));
+        DUE.notFit("recover of 1 - n", () -> keys.recover(0, 3, 1 - N, 5, 2));
+        DUE.notFit("recover of p + 2 - n", () -> keys.recover(0, 3, P + 2 - N, 5, 2));
+        DUE.truth("the secret is still there", true, () -> keys.sign(0, 1) != 0);
+    }
+
+    private static void recoverAtTheEdgesOfS() {
+        int[] edges = {
+            Integer.MIN_VALUE, -1, 0, 1, 2, HALF, HALF + 1, N - 1, N, N + 1, P, Integer.MAX_VALUE
+        };
+        for (int s : edges) {
+            for (int mark = 0; mark <= 3; mark++) {
+                recovered(0, 3, 1, s, mark);
+                recovered(1, 3, 1, s, mark);
+            }
+        }
+    }
+
+    /** With s * k = z the point is INFINITY; with the s beside it, it is not. */
+    private static void recoverBesideInfinity() {
+        for (int k : new int[] {1, 2, 5, EDGE_X_K[1], EDGE_X_K[2], EDGE_X_K[3]}) {
             Model.Point nonce = Model.multipleOfG(k);
             BigInteger z = Model.number(Model.digest(3));
-            int s = z.multiply(Model.number(k).modInverse(Model.N)).mod(Model.N).intValue();
-            int mark = nonce.isOdd() ? 1 : 0;
-            int r = nonce.x().intValue();
-            DUE.notFit("recover of INFINITY", () -> keys.recover(0, 3, r, s, mark));
+            int none = z.multiply(Model.number(k).modInverse(Model.N)).mod(Model.N).intValue();
+            int high = nonce.x().compareTo(Model.N) >= 0 ? 2 : 0;
+            int mark = high + (nonce.isOdd() ? 1 : 0);
+            EvenCurveKeys keys = withSecret(9);
+            DUE.notFit("recover of INFINITY", () -> keys.recover(0, 3, rOf(k), none, mark));
+            for (int s = none - 1; s <= none + 1; s++) {
+                recovered(0, 3, rOf(k), s, mark);
+                recovered(0, 3, rOf(k), s, mark ^ 1);
+            }
         }
-        DUE.truth("the secret is still there", true, () -> keys.sign(0, 1) != 0);
     }
 
     private static void recoverRefuses() {

@@ -8,7 +8,7 @@ final class State {
 
     private State() {}
 
-    /** Slots with their secrets, the mark, the bundle, and the typed bytes, of which it has some. */
+    /** The mark, the slots with their secrets, the bundle, and the bytes, some typed before. */
     static List<String> of(EvenCurveKeys keys, int typed) {
         List<String> seen = new ArrayList<>();
         seen.add("mark " + Due.outcome(keys::mark));
