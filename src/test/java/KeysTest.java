@@ -1,19 +1,9 @@
 /** Promises 1 to 8: the slots, and what is made of keys. */
 public final class KeysTest {
-    private static final int P = 1073735023;
-    private static final int N = 1073729077;
+    private static final int P = Edges.P;
+    private static final int N = Edges.N;
     private static final long TWO_TO_32 = 4294967296L;
-    private static final int[] NO_SLOTS = {-1, 6, Integer.MIN_VALUE, Integer.MAX_VALUE};
-    private static final int[] NO_SCALARS = {-1, N, N + 1, Integer.MIN_VALUE, Integer.MAX_VALUE};
     private static final int[] SECRETS = {1, 2, 3, 5, N / 2, N / 2 + 1, 123456789, N - 2, N - 1};
-
-    /** The lowest x of a point and the highest, and those around n: x, and k of the even point. */
-    private static final int[][] EDGE_X = {
-        {1, 1}, {N - 1, 1073504826}, {N + 1, 460199590}, {P - 3, 870684867}
-    };
-
-    /** Beside those: -1 and p are no field numbers, the others no x of a point. */
-    private static final int[] NO_X = {-1, 0, N, P - 2, P - 1, P};
 
     private static final Due DUE = new Due("KeysTest");
 
@@ -34,6 +24,7 @@ public final class KeysTest {
         tweakRefuses();
         combine();
         combineBesideInfinity();
+        combineOfNeighbours();
         combineRefuses();
         linear();
         linearBesideInfinity();
@@ -52,12 +43,13 @@ public final class KeysTest {
         return keys;
     }
 
-    /** That a slot has the secret d, as its point and a signature show. */
+    /** That a slot has the secret d and its point, as a signature and a proof show. */
     private static void hasSecret(String after, EvenCurveKeys keys, int slot, int d) {
         EvenCurveKeys other = new EvenCurveKeys();
         other.secret(0, d);
         DUE.number("code after " + after, codeOfG(d), () -> keys.code(slot));
-        DUE.number("sign after " + after, other.sign(0, 7), () -> keys.sign(slot, 7));
+        DUE.same("slot after " + after, State.ofSlot(keys, slot).toString(),
+                State.ofSlot(other, 0).toString());
     }
 
     private static void hasNoSecret(String after, EvenCurveKeys keys, int slot, long code) {
@@ -93,11 +85,11 @@ public final class KeysTest {
             hasSecret("secret", keys, 5, d);
         }
         keys.secret(3, 77);
-        for (int d : new int[] {0, -1, N, N + 1, Integer.MIN_VALUE, Integer.MAX_VALUE}) {
+        for (int d : Edges.NO_UNITS) {
             DUE.notFit("secret of " + d, () -> keys.secret(3, d));
         }
         hasSecret("a secret that throws", keys, 3, 77);
-        for (int slot : NO_SLOTS) {
+        for (int slot : Edges.NO_SLOTS) {
             DUE.noSlot("secret into " + slot, () -> keys.secret(slot, 1));
             DUE.noSlot("secret 0 into " + slot, () -> keys.secret(slot, 0));
         }
@@ -133,7 +125,7 @@ public final class KeysTest {
             // The point itself must be right, not its code alone.
             DUE.number("linear after open", codeOfG(3L + 2L * d), () -> keys.linear(2, 3, 2));
         }
-        for (int slot : NO_SLOTS) {
+        for (int slot : Edges.NO_SLOTS) {
             DUE.noSlot("open into " + slot, () -> opened(keys, slot, codeOfG(1)));
             DUE.noSlot("open of 0 into " + slot, () -> opened(keys, slot, 0));
         }
@@ -142,7 +134,7 @@ public final class KeysTest {
     /** A code of a point is taken, and those beside it that are none are not. */
     private static void openAtTheEdges() {
         EvenCurveKeys keys = new EvenCurveKeys();
-        for (int[] edge : EDGE_X) {
+        for (int[] edge : Edges.X) {
             for (int kind = 0; kind < 6; kind++) {
                 long code = kind * TWO_TO_32 + edge[0];
                 if (kind == 2 || kind == 3) {
@@ -156,7 +148,7 @@ public final class KeysTest {
                 }
             }
         }
-        for (int x : NO_X) {
+        for (int x : Edges.NO_X) {
             for (long kind = 0; kind < 5; kind++) {
                 long code = kind * TWO_TO_32 + x;
                 DUE.notFit("open of " + code, () -> opened(keys, 0, code));
@@ -189,7 +181,7 @@ public final class KeysTest {
         DUE.number("code of 5 * G", codeOfG(5), () -> keys.code(0));
         DUE.number("code of -5 * G", codeOfG(5) + TWO_TO_32, () -> keys.code(1));
         DUE.number("code of an empty slot", 0, () -> keys.code(2));
-        for (int slot : NO_SLOTS) {
+        for (int slot : Edges.NO_SLOTS) {
             DUE.noSlot("code of " + slot, () -> keys.code(slot));
         }
     }
@@ -230,10 +222,10 @@ public final class KeysTest {
 
     private static void evenAtTheEdges() {
         EvenCurveKeys keys = new EvenCurveKeys();
-        for (int[] edge : EDGE_X) {
+        for (int[] edge : Edges.X) {
             DUE.number("even(" + edge[0] + ")", codeOfG(edge[1]), () -> keys.even(edge[0]));
         }
-        for (int x : NO_X) {
+        for (int x : Edges.NO_X) {
             DUE.number("even(" + x + ")", 0, () -> keys.even(x));
         }
         // These are 1 modulo p, and 1 in the bits that a field number has.
@@ -308,13 +300,13 @@ public final class KeysTest {
         EvenCurveKeys keys = withSecrets(5, 6);
         DUE.notFit("tweak to INFINITY", () -> keys.tweak(0, N - 5, false));
         DUE.notFit("tweak by * 0", () -> keys.tweak(0, 0, true));
-        for (int t : NO_SCALARS) {
+        for (int t : Edges.NO_SCALARS) {
             DUE.notFit("tweak by + " + t, () -> keys.tweak(0, t, false));
             DUE.notFit("tweak by * " + t, () -> keys.tweak(0, t, true));
             DUE.empty("tweak of an empty slot", () -> keys.tweak(2, t, true));
         }
         hasSecret("tweaks that throw", keys, 0, 5);
-        for (int slot : NO_SLOTS) {
+        for (int slot : Edges.NO_SLOTS) {
             DUE.noSlot("tweak of " + slot, () -> keys.tweak(slot, 1, false));
             DUE.noSlot("tweak of " + slot, () -> keys.tweak(slot, -1, true));
         }
@@ -350,6 +342,26 @@ public final class KeysTest {
         }
     }
 
+    /** Points whose x, and so the divisor of their sum, lie close together, below and above. */
+    private static void combineOfNeighbours() {
+        for (int xa = 0; xa < 12; xa++) {
+            for (int xb = 0; xb < 12; xb++) {
+                for (int odd = 0; odd < 4; odd++) {
+                    Model.Point a = Model.at(Model.number(xa), odd % 2 == 1);
+                    Model.Point b = Model.at(Model.number(xb), odd / 2 == 1);
+                    Model.Point sum = Model.sum(a, b);
+                    if (a != null && b != null && sum != null) {
+                        EvenCurveKeys keys = new EvenCurveKeys();
+                        keys.open(0, Model.codeOf(a));
+                        keys.open(1, Model.codeOf(b));
+                        DUE.number("combine of x = " + xa + " and " + xb, Model.codeOf(sum),
+                                () -> keys.combine(2, 0, 1));
+                    }
+                }
+            }
+        }
+    }
+
     private static void combineRefuses() {
         EvenCurveKeys keys = withSecrets(5, N - 5);
         DUE.notFit("combine to INFINITY", () -> keys.combine(0, 0, 1));
@@ -357,7 +369,7 @@ public final class KeysTest {
         DUE.empty("combine with an empty slot", () -> keys.combine(0, 2, 1));
         DUE.empty("combine of empty slots", () -> keys.combine(0, 3, 3));
         hasSecret("combines that throw", keys, 0, 5);
-        for (int slot : NO_SLOTS) {
+        for (int slot : Edges.NO_SLOTS) {
             DUE.noSlot("combine into " + slot, () -> keys.combine(slot, 2, 3));
             DUE.noSlot("combine of " + slot, () -> keys.combine(0, slot, 2));
             DUE.noSlot("combine with " + slot, () -> keys.combine(0, 2, slot));
@@ -395,12 +407,12 @@ public final class KeysTest {
 
     private static void linearRefuses() {
         EvenCurveKeys keys = withSecrets(5, 6);
-        for (int wrong : NO_SCALARS) {
+        for (int wrong : Edges.NO_SCALARS) {
             DUE.notFit("linear of a = " + wrong, () -> keys.linear(0, wrong, 1));
             DUE.notFit("linear of b = " + wrong, () -> keys.linear(0, 1, wrong));
             DUE.empty("linear of an empty slot", () -> keys.linear(2, wrong, 1));
         }
-        for (int slot : NO_SLOTS) {
+        for (int slot : Edges.NO_SLOTS) {
             DUE.noSlot("linear of " + slot, () -> keys.linear(slot, 1, -1));
         }
     }

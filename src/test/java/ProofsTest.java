@@ -2,15 +2,9 @@ import java.math.BigInteger;
 
 /** Promises 13 to 17: proofs, bundles of them, and agreed secrets. */
 public final class ProofsTest {
-    private static final int P = 1073735023;
-    private static final int N = 1073729077;
-    private static final int[] NO_SLOTS = {-1, 6, Integer.MIN_VALUE, Integer.MAX_VALUE};
+    private static final int P = Edges.P;
+    private static final int N = Edges.N;
     private static final int[] SECRETS = {1, 2, 3, 5, 6, N / 2, 123456789, N - 2, N - 1};
-
-    /** The lowest x of a point and the highest, and those around n: x, and k of the even point. */
-    private static final int[][] EDGE_X = {
-        {1, 1}, {N - 1, 1073504826}, {N + 1, 460199590}, {P - 3, 870684867}
-    };
 
     private static final Due DUE = new Due("ProofsTest");
 
@@ -146,7 +140,7 @@ public final class ProofsTest {
 
     /** rx is x of R as it is, not modulo n. */
     private static void proveAtTheEdgesOfX() {
-        for (int[] edge : EDGE_X) {
+        for (int[] edge : Edges.X) {
             for (int k : new int[] {edge[1], N - edge[1]}) {
                 for (int d : new int[] {5, N - 5}) {
                     long proof = proved(d, messageForK(d, 3, k), 3);
@@ -161,7 +155,7 @@ public final class ProofsTest {
         keys.open(2, keys.code(0));
         DUE.noSecret("prove without a secret", () -> keys.prove(2, 7, 1));
         DUE.noSecret("prove of an empty slot", () -> keys.prove(3, 7, 1));
-        for (int slot : NO_SLOTS) {
+        for (int slot : Edges.NO_SLOTS) {
             DUE.noSlot("prove of slot " + slot, () -> keys.prove(slot, 7, 1));
         }
     }
@@ -247,7 +241,7 @@ public final class ProofsTest {
     /** The x of R, and numbers that are the same modulo p or n, or x of no point. */
     private static void holdsAtTheEdgesOfRx() {
         for (int d : new int[] {5, N - 5}) {
-            for (int[] edge : EDGE_X) {
+            for (int[] edge : Edges.X) {
                 int rx = edge[0];
                 int s = proofFor(d, 7, rx, edge[1]);
                 EvenCurveKeys keys = withSecrets(d, 6);
@@ -270,7 +264,7 @@ public final class ProofsTest {
         EvenCurveKeys keys = withSecrets(5, 6);
         DUE.empty("holds of an empty slot", () -> keys.holds(2, 7, 1, 1) ? 1 : 0);
         DUE.empty("holds of an empty slot", () -> keys.holds(2, 7, -1, -1) ? 1 : 0);
-        for (int slot : NO_SLOTS) {
+        for (int slot : Edges.NO_SLOTS) {
             DUE.noSlot("holds of slot " + slot, () -> keys.holds(slot, 7, -1, 1) ? 1 : 0);
         }
     }
@@ -328,7 +322,7 @@ public final class ProofsTest {
         EvenCurveKeys keys = withSecrets(5, 6);
         for (int round = 0; round < 2; round++) {
             DUE.empty("bundle of an empty slot", () -> keys.bundle(2, 7, 1, 1));
-            for (int slot : NO_SLOTS) {
+            for (int slot : Edges.NO_SLOTS) {
                 DUE.noSlot("bundle of slot " + slot, () -> keys.bundle(slot, 7, 1, 1));
             }
             // In the second round the bundle is full, which is looked at last.
@@ -493,7 +487,7 @@ public final class ProofsTest {
 
     /** y goes into H as it is: points of the same x agree on another secret. */
     private static void agreeWithOddPoints() {
-        for (int[] edge : EDGE_X) {
+        for (int[] edge : Edges.X) {
             for (int e : new int[] {edge[1], N - edge[1]}) {
                 EvenCurveKeys keys = withSecrets(1, N - 1);
                 keys.secret(2, e);
@@ -514,7 +508,7 @@ public final class ProofsTest {
         DUE.noSecret("agree of an empty slot", () -> keys.agree(3, 0));
         DUE.noSecret("agree of two empty slots", () -> keys.agree(3, 4));
         DUE.empty("agree with an empty slot", () -> keys.agree(0, 3));
-        for (int slot : NO_SLOTS) {
+        for (int slot : Edges.NO_SLOTS) {
             DUE.noSlot("agree of slot " + slot, () -> keys.agree(slot, 3));
             DUE.noSlot("agree with slot " + slot, () -> keys.agree(0, slot));
             DUE.noSlot("agree with slot " + slot, () -> keys.agree(3, slot));

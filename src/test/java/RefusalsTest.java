@@ -10,8 +10,8 @@ import java.util.function.ToLongFunction;
  * that is new, on one that is used, and on one that is full.
  */
 public final class RefusalsTest {
-    private static final int P = 1073735023;
-    private static final int N = 1073729077;
+    private static final int P = Edges.P;
+    private static final int N = Edges.N;
 
     /** With the message 155926 its signature has the mark 3. */
     private static final int D = 585553178;
@@ -27,8 +27,6 @@ public final class RefusalsTest {
     private static final int EMPTY = 4;
     private static final int EMPTY_TOO = 5;
 
-    private static final int[] NO_SLOTS = {-1, 6, Integer.MIN_VALUE, Integer.MAX_VALUE};
-    private static final int[] NO_SCALARS = {-1, N, N + 1, Integer.MIN_VALUE, Integer.MAX_VALUE};
     private static final long CODE = 2 * 4294967296L + 1;
 
     private static final Due DUE = new Due("RefusalsTest");
@@ -171,7 +169,7 @@ public final class RefusalsTest {
     }
 
     private static void noSuchSlots(Stage stage) {
-        for (int slot : NO_SLOTS) {
+        for (int slot : Edges.NO_SLOTS) {
             String of = " of slot " + slot;
             stage.noSlot("secret" + of, keys -> keys.secret(slot, 1));
             stage.noSlot("open" + of, keys -> opened(keys, slot, CODE));
@@ -194,7 +192,7 @@ public final class RefusalsTest {
 
     /** That there is no such slot is looked at before all else. */
     private static void twoReasonsWithNoSuchSlot(Stage stage) {
-        for (int slot : NO_SLOTS) {
+        for (int slot : Edges.NO_SLOTS) {
             String of = " of slot " + slot + " and more";
             stage.noSlot("secret" + of, keys -> keys.secret(slot, 0));
             stage.noSlot("open" + of, keys -> opened(keys, slot, 0));
@@ -225,7 +223,7 @@ public final class RefusalsTest {
         stage.empty("holds of none and no rx", keys -> holds(keys, EMPTY, P, N));
         stage.empty("bundle of none", keys -> keys.bundle(EMPTY, 7, 1, 1));
         stage.empty("agree with none", keys -> keys.agree(MINE, EMPTY));
-        for (int wrong : NO_SCALARS) {
+        for (int wrong : Edges.NO_SCALARS) {
             stage.empty("tweak of none by " + wrong, keys -> keys.tweak(EMPTY, wrong, true));
             stage.empty("linear of none, " + wrong, keys -> keys.linear(EMPTY, wrong, wrong));
         }
@@ -246,7 +244,7 @@ public final class RefusalsTest {
 
     private static void secretRefuses(Stage stage) {
         for (int slot : new int[] {MINE, OPEN, EMPTY}) {
-            for (int d : new int[] {0, -1, N, N + 1, Integer.MIN_VALUE, Integer.MAX_VALUE}) {
+            for (int d : Edges.NO_UNITS) {
                 stage.notFit("secret of " + d, keys -> keys.secret(slot, d));
             }
         }
@@ -266,7 +264,7 @@ public final class RefusalsTest {
 
     private static void tweakRefuses(Stage stage) {
         for (int slot : new int[] {MINE, OPEN}) {
-            for (int t : NO_SCALARS) {
+            for (int t : Edges.NO_SCALARS) {
                 stage.notFit("tweak by + " + t, keys -> keys.tweak(slot, t, false));
                 stage.notFit("tweak by * " + t, keys -> keys.tweak(slot, t, true));
             }
@@ -289,7 +287,7 @@ public final class RefusalsTest {
 
     private static void linearRefuses(Stage stage) {
         for (int slot : new int[] {MINE, OPEN}) {
-            for (int wrong : NO_SCALARS) {
+            for (int wrong : Edges.NO_SCALARS) {
                 stage.notFit("linear of a = " + wrong, keys -> keys.linear(slot, wrong, 1));
                 stage.notFit("linear of b = " + wrong, keys -> keys.linear(slot, 1, wrong));
             }
@@ -305,7 +303,7 @@ public final class RefusalsTest {
                 stage.notFit("recover of mark " + mark,
                         keys -> keys.recover(slot, 7, 1, 1, mark));
             }
-            for (int wrong : new int[] {0, -1, N, N + 1, Integer.MIN_VALUE, Integer.MAX_VALUE}) {
+            for (int wrong : Edges.NO_UNITS) {
                 stage.notFit("recover of r = " + wrong,
                         keys -> keys.recover(slot, 7, wrong, 1, 0));
                 stage.notFit("recover of s = " + wrong,

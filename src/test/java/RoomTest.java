@@ -3,7 +3,7 @@ import java.lang.management.ManagementFactory;
 
 /** That calls make no objects: all those of a run share one small room. */
 public final class RoomTest {
-    private static final int N = 1073729077;
+    private static final int N = Edges.N;
     private static final int OBJECTS = 500;
 
     private static final Due DUE = new Due("RoomTest");

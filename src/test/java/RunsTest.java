@@ -11,8 +11,8 @@ import java.util.Random;
 public final class RunsTest {
     private static final int RUNS = 60;
     private static final int CALLS = 512;
-    private static final int N = 1073729077;
-    private static final int P = 1073735023;
+    private static final int N = Edges.N;
+    private static final int P = Edges.P;
     private static final int[] EDGES = {
         0, 1, 2, -1, N - 1, N, N + 1, N / 2, N / 2 + 1, P - 3, P - 1, P, P - 3 - N, P - N,
         Integer.MAX_VALUE, Integer.MIN_VALUE

@@ -2,8 +2,8 @@ import java.math.BigInteger;
 
 /** Promises 9 to 12: signatures, their marks, and the keys found again from them. */
 public final class SignaturesTest {
-    private static final int P = 1073735023;
-    private static final int N = 1073729077;
+    private static final int P = Edges.P;
+    private static final int N = Edges.N;
     private static final int HALF = (N - 1) / 2;
 
     /** Secrets and messages whose R has an x of n or more: d, message, mark. */
@@ -49,11 +49,8 @@ public final class SignaturesTest {
         {19, 28881276, P - 3 - N, 172816565, 3}, {39, 109606798, P - 3 - N, 187877883, 2}
     };
 
-    /** Secrets and digests for which only the 11th k is 1 .. n - 1: no more are passed over. */
+    /** Secrets and digests for which only the 11th k is 1 .. n - 1, the latest that was found. */
     private static final int[][] LATE_K = {{9, 17698}, {7, 37304}, {8, 42775}, {6, 52715}};
-
-    /** The k of the even points with the x 1, n - 1, n + 1 and p - 3. */
-    private static final int[] EDGE_X_K = {1, 1073504826, 460199590, 870684867};
 
     private static final Due DUE = new Due("SignaturesTest");
 
@@ -189,7 +186,7 @@ public final class SignaturesTest {
         keys.open(1, keys.code(0));
         DUE.noSecret("sign without a secret", () -> keys.sign(1, 7));
         DUE.noSecret("sign of an empty slot", () -> keys.sign(2, 7));
-        for (int slot : new int[] {-1, 6, Integer.MIN_VALUE, Integer.MAX_VALUE}) {
+        for (int slot : Edges.NO_SLOTS) {
             DUE.noSlot("sign of slot " + slot, () -> keys.sign(slot, 7));
         }
     }
@@ -256,8 +253,7 @@ public final class SignaturesTest {
         DUE.truth("good of s + 1", false, () -> keys.good(0, 7, r, s + 1));
         DUE.truth("good of -r", false, () -> keys.good(0, 7, -r, s));
         DUE.truth("good of -s", false, () -> keys.good(0, 7, r, -s));
-        int[] outside = {0, -1, N, N + 1, P, Integer.MIN_VALUE, Integer.MAX_VALUE};
-        for (int wrong : outside) {
+        for (int wrong : Edges.NO_UNITS) {
             DUE.truth("good of r = " + wrong, false, () -> keys.good(0, 7, wrong, s));
             DUE.truth("good of s = " + wrong, false, () -> keys.good(0, 7, r, wrong));
         }
@@ -289,9 +285,9 @@ public final class SignaturesTest {
 
     /** r is x of R modulo n, and both 1 and n + 1 are x of points: r = 1 is good with either. */
     private static void goodAtTheEdgesOfR() {
-        for (int even : EDGE_X_K) {
-            for (int k : new int[] {even, N - even}) {
-                int x = Model.multipleOfG(k).x().intValue();
+        for (int[] edge : Edges.X) {
+            for (int k : new int[] {edge[1], N - edge[1]}) {
+                int x = edge[0];
                 int r = rOf(k);
                 EvenCurveKeys keys = withSecret(secretFor(9, k, 5));
                 DUE.truth("good of x = " + x, true, () -> keys.good(0, 9, r, 5));
@@ -318,7 +314,7 @@ public final class SignaturesTest {
         EvenCurveKeys keys = withSecret(5);
         DUE.empty("good of an empty slot", () -> keys.good(1, 7, 1, 1) ? 1 : 0);
         DUE.empty("good of an empty slot", () -> keys.good(1, 7, 0, 0) ? 1 : 0);
-        for (int slot : new int[] {-1, 6, Integer.MIN_VALUE, Integer.MAX_VALUE}) {
+        for (int slot : Edges.NO_SLOTS) {
             DUE.noSlot("good of slot " + slot, () -> keys.good(slot, 7, 0, 0) ? 1 : 0);
         }
     }
@@ -379,8 +375,7 @@ public final class SignaturesTest {
     private static void recoverWithEachMark() {
         EvenCurveKeys keys = new EvenCurveKeys();
         BigInteger z = Model.number(Model.digest(7));
-        int high = EDGE_X_K[2];
-        int[] ks = {1, N - 1, high, N - high};
+        int[] ks = {1, N - 1, Edges.K_OVER_N, N - Edges.K_OVER_N};
         for (int mark = 0; mark < 4; mark++) {
             int asked = mark;
             // For r = 1 the secret is s * k - z.
@@ -424,7 +419,7 @@ public final class SignaturesTest {
 
     /** With s * k = z the point is INFINITY; with the s beside it, it is not. */
     private static void recoverBesideInfinity() {
-        for (int k : new int[] {1, 2, 5, EDGE_X_K[1], EDGE_X_K[2], EDGE_X_K[3]}) {
+        for (int k : new int[] {1, 2, 5, Edges.K_UNDER_N, Edges.K_OVER_N, Edges.K_HIGHEST}) {
             Model.Point nonce = Model.multipleOfG(k);
             BigInteger z = Model.number(Model.digest(3));
             int none = z.multiply(Model.number(k).modInverse(Model.N)).mod(Model.N).intValue();
@@ -441,7 +436,7 @@ public final class SignaturesTest {
 
     private static void recoverRefuses() {
         EvenCurveKeys keys = withSecret(5);
-        for (int wrong : new int[] {0, -1, N, N + 1, P, Integer.MIN_VALUE, Integer.MAX_VALUE}) {
+        for (int wrong : Edges.NO_UNITS) {
             DUE.notFit("recover of r = " + wrong, () -> keys.recover(0, 7, wrong, 1, 0));
             DUE.notFit("recover of r = " + wrong, () -> keys.recover(0, 7, wrong, 1, 2));
             DUE.notFit("recover of s = " + wrong, () -> keys.recover(0, 7, 1, wrong, 0));
@@ -449,7 +444,7 @@ public final class SignaturesTest {
         for (int mark : new int[] {-1, 4, 5, -4, Integer.MIN_VALUE, Integer.MAX_VALUE}) {
             DUE.notFit("recover of mark " + mark, () -> keys.recover(0, 7, 1, 1, mark));
         }
-        for (int slot : new int[] {-1, 6, Integer.MIN_VALUE, Integer.MAX_VALUE}) {
+        for (int slot : Edges.NO_SLOTS) {
             DUE.noSlot("recover into " + slot, () -> keys.recover(slot, 7, 0, 1, 9));
         }
         DUE.number("sign after throws", 3753173926405257435L, () -> keys.sign(0, 7));

@@ -4,7 +4,7 @@ import java.util.function.ToLongFunction;
 
 /** Slots 0 .. 5, each of them with each call: first and last do, and none touches another. */
 public final class SlotsTest {
-    private static final int N = 1073729077;
+    private static final int N = Edges.N;
     private static final int R = 873853901;
     private static final int S = 128235739;
 
