@@ -369,6 +369,7 @@ public final class RefusalsTest {
         stage.leaves("mark", "3", EvenCurveKeys::mark);
         stage.leaves("good", "1", keys -> keys.good(MINE, SIGNED, r, s) ? 1 : 0);
         stage.leaves("good", "0", keys -> good(keys, MINE, r, s));
+        stage.leaves("good", "0", keys -> good(keys, MINE, 0, N));
         stage.leaves("prove", Long.toString(proof), keys -> keys.prove(MINE, 7, 1));
         stage.leaves("holds", "1", keys -> holds(keys, MINE, Model.high(proof), Model.low(proof)));
         stage.leaves("holds", "0", keys -> holds(keys, MINE, P, N));

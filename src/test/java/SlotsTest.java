@@ -4,7 +4,6 @@ import java.util.function.ToLongFunction;
 
 /** Slots 0 .. 5, each of them with each call: first and last do, and none touches another. */
 public final class SlotsTest {
-    private static final int N = Edges.N;
     private static final int R = 873853901;
     private static final int S = 128235739;
 
@@ -129,12 +128,15 @@ public final class SlotsTest {
         String fresh = State.of(new EvenCurveKeys(), 0).toString();
         EvenCurveKeys older = new EvenCurveKeys();
         EvenCurveKeys used = filled();
-        used.sign(0, 7);
-        used.sign(5, N);
+        used.secret(5, 585553178);
+        used.sign(5, 155926);
         used.bundle(0, 7, 1, 1);
         used.type(48);
-        EvenCurveKeys newer = new EvenCurveKeys();
         DUE.same("an older object", State.of(older, 0).toString(), fresh);
+        EvenCurveKeys newer = new EvenCurveKeys();
+        DUE.number("mark of the used object", 3, used::mark);
+        DUE.number("bundle of the used object", 2, () -> used.bundle(0, 7, 1, 1));
+        DUE.number("type of the used object", 2, () -> used.type(6));
         DUE.same("a newer object", State.of(newer, 0).toString(), fresh);
     }
 }
