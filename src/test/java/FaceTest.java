@@ -67,6 +67,9 @@ public final class FaceTest {
             }
         }
         DUE.same("the methods", found.toString(), FACE.toString());
+        for (Class<?> inside : type.getDeclaredClasses()) {
+            Arrays.asList(inside.getDeclaredMethods()).forEach(own -> hidden.add(own.getName()));
+        }
         hidden.retainAll(open);
         DUE.same("private methods with a public one's name", hidden.toString(), "[]");
     }
